@@ -5,6 +5,7 @@ public final class PackHouse {
     private static final int MOST_BYTES = 65536;
     private static final int MOST_WRITTEN = 16384;
     private static final int MOST_OF_A_BLOCK = 131072;
+    private static final int GREATEST_INT = 0x7FFFFFFF;
 
     private static final int TOKEN_BLOCK = 0;
     private static final int TOKEN_FRAME = 1;
@@ -130,7 +131,7 @@ public final class PackHouse {
         if (more > MOST_BYTES - rows[r].count) {
             return false;
         }
-        rows[r].copyBack(m, (int) more, 0, past);
+        rows[r].copyBack(m, (int) more, 0, rows[r]);
         return true;
     }
 
@@ -651,8 +652,12 @@ public final class PackHouse {
         }
 
         void addNumber(long v, int n) {
+            if (!reserve(n)) {
+                burst = true;
+                return;
+            }
             for (int i = 0; i < n; i++) {
-                add((int) (v >>> 8 * i));
+                bytes[count++] = (byte) (v >>> 8 * i);
             }
         }
 
@@ -700,9 +705,12 @@ public final class PackHouse {
             }
         }
 
+        // Zeros up to the end of a byte.
         void endBits() {
-            if (heldBits > 0) {
-                add(held);
+            if (heldBits > 0 && count < bytes.length) {
+                bytes[count++] = (byte) held;
+            } else if (heldBits > 0) {
+                burst = true;
             }
             held = 0;
             heldBits = 0;
@@ -1062,31 +1070,32 @@ public final class PackHouse {
             begin(from, into, mostOfAll);
             int at = 0;
             for (int turn = 0; turn < stop && at < stop; turn++) {
-                int next = -1;
                 if (stop - at < 4) {
                     return fail(1, stop);
                 }
                 if (isSpare(in, at, stop)) {
-                    next = afterSpare(in, at, stop);
-                } else if (word(in, at) != TOKEN_MARK) {
-                    return fail(4, at);
+                    at = afterSpare(in, at, stop);
+                    if (at < 0) {
+                        return fail(1, stop);
+                    }
                 } else {
-                    int fault = unpackFrame(at);
+                    int fault = unpackHead(at);
+                    fault = fault != 0 ? fault : unpackBlocks(place);
+                    fault = fault != 0 ? fault : unpackEnd(place, at + 6);
                     if (fault != 0) {
                         return fault;
                     }
-                    next = place;
+                    at = place;
                 }
-                if (next < 0) {
-                    return fail(1, stop);
-                }
-                at = next;
             }
             return fail(0, stop);
         }
 
-        // Leaves in place where the frame ends.
-        private int unpackFrame(int at) {
+        // Leaves in place where the frame's head ends.
+        private int unpackHead(int at) {
+            if (word(in, at) != TOKEN_MARK) {
+                return fail(4, at);
+            }
             if (stop - at < 5) {
                 return fail(1, stop);
             }
@@ -1110,8 +1119,7 @@ public final class PackHouse {
             }
             blockMost = 1 << 8 + 2 * k;
             contentBegin = result.count;
-            int fault = unpackBlocks(headEnd + 1);
-            return fault != 0 ? fault : unpackEnd(place, at + 6);
+            return fail(0, headEnd + 1);
         }
 
         // Leaves in place where the bytes 0 behind the blocks end.
@@ -1137,28 +1145,24 @@ public final class PackHouse {
                 if (sumSize > 0 && word(in, begun + m) != narrowSum(in, begun, begun + m, 0)) {
                     return fail(8, begun + m);
                 }
-                int fault = told < 0 ? unpackPlain(begun, m) : unpackPacked(begun, m);
+                int limit = Math.min(most, result.count + blockMost);
+                int base = (flags & ALONE) != 0 ? result.count : contentBegin;
+                int fault = told < 0 ? unpackPlain(begun, m, limit) : unpackBlock(begun, begun + m, base, limit);
                 if (fault != 0) {
-                    return fault;
+                    return fault == 1 ? 9 : fault;
                 }
                 at = begun + m + sumSize;
             }
             return fail(1, stop);
         }
 
-        private int unpackPlain(int at, int m) {
-            int can = most - result.count;
+        private int unpackPlain(int at, int m, int limit) {
+            int can = limit - result.count;
             if (m > can) {
                 return fail(3, at + can);
             }
             result.addPart(in, at, m);
             return 0;
-        }
-
-        private int unpackPacked(int at, int m) {
-            int base = (flags & ALONE) != 0 ? result.count : contentBegin;
-            int fault = unpackBlock(at, at + m, base, Math.min(most, result.count + blockMost));
-            return fault == 1 ? 9 : fault;
         }
 
         private int unpackEnd(int from, int sizeAt) {
@@ -1191,6 +1195,7 @@ public final class PackHouse {
         private int stop;
         private Row result;
         private int most;
+        private long length;
         int place;
 
         Tags(int[] settingsOfAll, Finder finderOfAll) {
@@ -1341,27 +1346,12 @@ public final class PackHouse {
         }
 
         private int unpackBlock(int from, int end, int longest) {
-            long length = 0;
-            int at = from;
-            boolean more = true;
-            for (int i = 0; i < 5 && more; i++) {
-                if (at >= end) {
-                    return fail(1, end);
-                }
-                int v = in[at++] & 255;
-                if (i == 4 && v > 15) {
-                    return fail(2, from);
-                }
-                length |= (v & 127L) << 7 * i;
-                more = v > 127;
+            int fault = unpackLength(from, end, longest);
+            if (fault != 0) {
+                return fault;
             }
-            return length > longest ? fail(3, from) : unpackElements(at, end, result.count + (int) length);
-        }
-
-        // What the elements come to ends at full.
-        private int unpackElements(int from, int end, int full) {
             int base = result.count;
-            int at = from;
+            int at = place;
             for (int turn = from; turn < end && at < end; turn++) {
                 int tag = in[at] & 255;
                 int behind = bytesBehind(tag);
@@ -1375,7 +1365,7 @@ public final class PackHouse {
                 if (copy && (distance == 0 || distance > result.count - base)) {
                     return fail(4, at);
                 }
-                if (n > full - result.count) {
+                if (n > length - (result.count - base)) {
                     return fail(5, at);
                 }
                 at += 1 + behind;
@@ -1388,7 +1378,26 @@ public final class PackHouse {
                     at += (int) n;
                 }
             }
-            return result.count < full ? fail(6, end) : fail(0, end);
+            return result.count - base < length ? fail(6, end) : fail(0, end);
+        }
+
+        // Leaves LENGTH in length, and in place where it ends.
+        private int unpackLength(int from, int end, int longest) {
+            length = 0;
+            int at = from;
+            boolean more = true;
+            for (int i = 0; i < 5 && more; i++) {
+                if (at >= end) {
+                    return fail(1, end);
+                }
+                int v = in[at++] & 255;
+                if (i == 4 && v > 15) {
+                    return fail(2, from);
+                }
+                length |= (v & 127L) << 7 * i;
+                more = v > 127;
+            }
+            return length > longest ? fail(3, from) : fail(0, at);
         }
 
         private static int bytesBehind(int tag) {
@@ -1480,7 +1489,7 @@ public final class PackHouse {
 
         // The n highest bits that are left; those below the first one are 0.
         long peek(int n) {
-            int low = Math.max(0, left - n);
+            int low = left > n ? left - n : 0;
             int bits = left - low;
             if (bits <= 0) {
                 return 0;
@@ -1545,7 +1554,21 @@ public final class PackHouse {
 
         private void lay() {
             int all = 1 << order;
-            int high = layMasses(all - 1);
+            int high = all - 1;
+            int start = 0;
+            for (int s = 0; s < symbols; s++) {
+                masses[s] = points[s] < 0 ? 1 : points[s];
+                starts[s] = start;
+                used[s] = 0;
+                mostBits[s] = order;
+                for (int half = masses[s] >> 1; half > 0; half >>= 1) {
+                    mostBits[s]--;
+                }
+                start += masses[s];
+                if (points[s] < 0) {
+                    symbolAt[high--] = s;
+                }
+            }
             int step = (all >> 1) + (all >> 3) + 3;
             int at = 0;
             for (int s = 0; s < symbols; s++) {
@@ -1563,26 +1586,6 @@ public final class PackHouse {
                 placeOf[starts[s] + used[s]] = p;
                 used[s]++;
             }
-        }
-
-        // Answers the highest place that symbols with -1 points do not take.
-        private int layMasses(int highest) {
-            int high = highest;
-            int start = 0;
-            for (int s = 0; s < symbols; s++) {
-                masses[s] = points[s] < 0 ? 1 : points[s];
-                starts[s] = start;
-                used[s] = 0;
-                mostBits[s] = order;
-                for (int half = masses[s] >> 1; half > 0; half >>= 1) {
-                    mostBits[s]--;
-                }
-                start += masses[s];
-                if (points[s] < 0) {
-                    symbolAt[high--] = s;
-                }
-            }
-            return high;
         }
 
         boolean holds(int[] counts) {
@@ -1911,9 +1914,10 @@ public final class PackHouse {
         }
 
         private void describeDirectly(Row out, int k) {
-            out.add(127 + k);
+            out.reserve(1 + k);
+            out.addBits(127 + k, 8);
             for (int i = 0; i < k; i += 2) {
-                out.add(weights[i] << 4 | (i + 1 < k ? weights[i + 1] : 0));
+                out.addBits(weights[i] << 4 | (i + 1 < k ? weights[i + 1] : 0), 8);
             }
         }
 
@@ -2008,14 +2012,17 @@ public final class PackHouse {
             return true;
         }
 
-        // Reads a STREAM of n symbols; false when these are not just its bits.
+        // Reads a STREAM of n symbols; false when these are not just its bits. Only those that the caller
+        // has reserved room for are kept.
         boolean unpack(byte[] d, int from, int end, int n, Row into) {
             if (!source.begin(d, from, end)) {
                 return false;
             }
             for (int i = 0; i < n && source.left >= 0; i++) {
                 int cell = cells[(int) source.peek(greatest)];
-                into.add(cell);
+                if (into.count < into.bytes.length) {
+                    into.bytes[into.count++] = (byte) cell;
+                }
                 source.left -= cell >> 8;
             }
             return source.left == 0;
@@ -2199,10 +2206,10 @@ public final class PackHouse {
         private int head;
         private long window;
         private int sizeAt;
-        private long sizeTold;
         private int contentBegin;
         private int blockEnd;
         private int literalCount;
+        private int literalAt;
         int place;
 
         Unpacker(Share[] knownOfAll) {
@@ -2252,7 +2259,7 @@ public final class PackHouse {
         }
 
         private int blockMost() {
-            return (int) Math.min(MOST_OF_A_BLOCK, window);
+            return window < MOST_OF_A_BLOCK ? (int) window : MOST_OF_A_BLOCK;
         }
 
         // Spare bytes, or a frame up to its first block.
@@ -2286,8 +2293,9 @@ public final class PackHouse {
         }
 
         private void tellWindow(long v) {
-            window = v < 0 ? Long.MAX_VALUE : v;
-            counts[4] = (int) Math.min(Integer.MAX_VALUE, window);
+            // One of eight bytes has no sign: as a negative long it is larger than all that is compared with it.
+            window = v < 0 ? 1L << 62 : v;
+            counts[4] = window < GREATEST_INT ? (int) window : GREATEST_INT;
         }
 
         private int unpackWindow() {
@@ -2313,17 +2321,24 @@ public final class PackHouse {
             return 0;
         }
 
-        private int unpackSize() {
-            boolean single = (head & SINGLE) != 0;
+        private int sizeBytes() {
             int f = head >> 6;
-            int n = f > 0 ? 1 << f : single ? 1 : 0;
+            return f > 0 ? 1 << f : (head & SINGLE) != 0 ? 1 : 0;
+        }
+
+        private long sizeTold() {
+            int n = sizeBytes();
+            return number(in, sizeAt, n) + (n == 2 ? 256 : 0);
+        }
+
+        private int unpackSize() {
+            int n = sizeBytes();
             if (stop - at < n) {
                 return fail(1, stop);
             }
-            sizeAt = n > 0 ? at : -1;
-            sizeTold = number(in, at, n) + (n == 2 ? 256 : 0);
-            if (single) {
-                tellWindow(sizeTold);
+            sizeAt = at;
+            if ((head & SINGLE) != 0) {
+                tellWindow(sizeTold());
             }
             at += n;
             return 0;
@@ -2339,7 +2354,7 @@ public final class PackHouse {
                 }
                 at += 4;
             }
-            return sizeAt >= 0 && sizeTold != result.count - contentBegin ? fail(9, sizeAt) : 0;
+            return sizeBytes() > 0 && sizeTold() != result.count - contentBegin ? fail(9, sizeAt) : 0;
         }
 
         // Does a block of kind 0 or 1; of one of kind 2 it leaves in blockEnd where it ends, else 0.
@@ -2404,7 +2419,6 @@ public final class PackHouse {
             if (plain) {
                 literals.addPart(in, at, n);
             } else {
-                // More than a row's bytes are never used: there is no room for them in the content.
                 literals.addSame(in[at], Math.min(n, MOST_BYTES));
             }
             at += bytes;
@@ -2444,6 +2458,7 @@ public final class PackHouse {
                 at = after;
             }
             literalCount = n;
+            // More than a row's bytes are never used: there is no room for them in the content.
             literals.reserve(Math.min(n, MOST_BYTES));
             return unpackStreams(end, n, l == 0 ? 1 : 4);
         }
@@ -2481,9 +2496,29 @@ public final class PackHouse {
             int n = size == 1 ? x : size == 2 ? 256 * (x - 128) + (in[at + 1] & 255)
                 : (int) number(in, at + 1, 2) + 32512;
             at += size;
-            if (n == 0) {
-                return at < blockEnd ? fail(15, at) : unpackRest(literalsAt, 0, result.count);
+            if (n == 0 && at < blockEnd) {
+                return fail(15, at);
             }
+            int blockBegin = result.count;
+            literalAt = 0;
+            int fault = n == 0 ? 0 : unpackTables();
+            int faultAt = n == 0 ? literalsAt : at;
+            if (fault == 0 && n > 0) {
+                fault = runSequences(n, blockBegin);
+            }
+            if (fault != 0) {
+                return fault;
+            }
+            int left = literalCount - literalAt;
+            fault = faultOfLength(left, blockBegin);
+            if (fault != 0) {
+                return fail(fault, faultAt);
+            }
+            result.addPart(literals.bytes, literalAt, left);
+            return 0;
+        }
+
+        private int unpackTables() {
             if (at >= blockEnd) {
                 return fail(10, blockEnd);
             }
@@ -2493,13 +2528,11 @@ public final class PackHouse {
                 return fail(15, modesAt);
             }
             at++;
-            for (int i = 0; i < 3; i++) {
-                int fault = unpackTable(i, modes >> 6 - 2 * i & 3, modesAt);
-                if (fault != 0) {
-                    return fault;
-                }
+            int fault = 0;
+            for (int i = 0; i < 3 && fault == 0; i++) {
+                fault = unpackTable(i, modes >> 6 - 2 * i & 3, modesAt);
             }
-            return runSequences(n);
+            return fault;
         }
 
         private int unpackTable(int i, int mode, int modesAt) {
@@ -2526,24 +2559,22 @@ public final class PackHouse {
             return 0;
         }
 
-        private int runSequences(int n) {
-            int begun = at;
-            boolean there = source.begin(in, begun, blockEnd);
+        // PLACE of its faults is where the stream begins.
+        private int runSequences(int n, int blockBegin) {
             Share[] tables = now.tables;
+            boolean there = source.begin(in, at, blockEnd);
             if (!there || source.left < tables[0].order + tables[1].order + tables[2].order) {
-                return fail(17, begun);
+                return fail(17, at);
             }
             for (int i = 0; i < 3; i++) {
                 states[i] = (int) source.take(tables[i].order);
             }
-            int blockBegin = result.count;
-            int used = 0;
             for (int i = 0; i < n; i++) {
                 int literal = tables[LITERAL_LENGTHS].symbolOf(states[LITERAL_LENGTHS]);
                 int match = tables[MATCH_LENGTHS].symbolOf(states[MATCH_LENGTHS]);
                 int bits = tables[DISTANCES].symbolOf(states[DISTANCES]);
                 if (source.left < bits + MATCH_BITS[match] + LITERAL_BITS[literal] + (i + 1 < n ? bitsBehind() : 0)) {
-                    return fail(17, begun);
+                    return fail(17, at);
                 }
                 long v = (1L << bits) + source.take(bits);
                 int length = MATCH_BASES[match] + (int) source.take(MATCH_BITS[match]);
@@ -2554,16 +2585,16 @@ public final class PackHouse {
                     moveState(DISTANCES);
                 }
                 long distance = now.tellDistance(v, before);
-                int fault = faultOf(before, literalCount - used, length, distance, blockBegin);
+                int fault = faultOf(before, length, distance, blockBegin);
                 if (fault != 0) {
-                    return fail(fault, begun);
+                    return fail(fault, at);
                 }
-                result.addPart(literals.bytes, used, before);
+                result.addPart(literals.bytes, literalAt, before);
                 result.copyBack((int) distance, length, contentBegin, dictionary.content);
-                used += before;
+                literalAt += before;
                 counts[2]++;
             }
-            return source.left > 0 ? fail(17, begun) : unpackRest(begun, used, blockBegin);
+            return source.left > 0 ? fail(17, at) : 0;
         }
 
         private int bitsBehind() {
@@ -2579,8 +2610,8 @@ public final class PackHouse {
             states[i] = table.baseBehind(states[i]) + (int) source.take(table.bitsBehind(states[i]));
         }
 
-        private int faultOf(int before, int left, int length, long distance, int blockBegin) {
-            if (before > left) {
+        private int faultOf(int before, int length, long distance, int blockBegin) {
+            if (before > literalCount - literalAt) {
                 return 19;
             }
             long so = result.count - contentBegin + before;
@@ -2597,16 +2628,6 @@ public final class PackHouse {
                 return 20;
             }
             return more > most - result.count ? 7 : 0;
-        }
-
-        // The LITERALS that no sequence took.
-        private int unpackRest(int faultAt, int used, int blockBegin) {
-            int fault = faultOfLength(literalCount - used, blockBegin);
-            if (fault != 0) {
-                return fail(fault, faultAt);
-            }
-            result.addPart(literals.bytes, used, literalCount - used);
-            return 0;
         }
     }
 
@@ -2902,7 +2923,7 @@ public final class PackHouse {
             Share before = now.tables[i];
             Share fresh = before == ownTables[i] ? otherTables[i] : ownTables[i];
             int order = bestOrder(fresh, i, different);
-            int cost = Integer.MAX_VALUE;
+            int cost = GREATEST_INT;
             if (known[i].holds(symbolCounts)) {
                 cost = known[i].costOf(symbols[i], n);
                 modes[i] = 0;
@@ -2936,7 +2957,7 @@ public final class PackHouse {
         // The order that mode 2 takes; leaves its cost in leastCost.
         private int bestOrder(Share share, int i, int different) {
             int best = 0;
-            leastCost = Integer.MAX_VALUE;
+            leastCost = GREATEST_INT;
             for (int order = 5; order <= GREATEST_ORDERS[i]; order++) {
                 if (1 << order >= different) {
                     told.clear();
