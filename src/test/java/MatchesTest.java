@@ -1,0 +1,182 @@
+import java.io.ByteArrayOutputStream;
+import java.util.Random;
+
+/** Promise 18's MATCHES: all four WAYS, by looking at each place before each place. */
+public final class MatchesTest {
+    private static byte[] data;
+    private static int end;
+    private static int lastStart;
+    private static int length;
+    private static int distance;
+
+    public static void main(String[] args) {
+        Random random = new Random(1);
+        for (int turn = 0; turn < 400; turn++) {
+            byte[] past = row(random, turn % 3 == 0 ? random.nextInt(60) : 0);
+            byte[] row = row(random, random.nextInt(turn % 40 == 0 ? 2500 : 200));
+            for (int way = 0; way < 4; way++) {
+                PackHouse x = new PackHouse();
+                x.set(0, way);
+                Checks.load(x, 0, past);
+                x.history(0);
+                Checks.load(x, 0, row);
+                x.write(1, 0, 0);
+                Checks.dueRow("tokens, turn " + turn + ", way " + way, x, 1, tokens(past, row, way));
+                x.write(1, 0, 2);
+                Checks.dueRow("tags, turn " + turn + ", way " + way, x, 1, tags(row, way));
+            }
+        }
+        Checks.end("MatchesTest");
+    }
+
+    private static byte[] row(Random random, int n) {
+        byte[] b = new byte[n];
+        int letters = 1 + random.nextInt(5);
+        int period = 1 + random.nextInt(30);
+        for (int i = 0; i < n; i++) {
+            b[i] = (byte) (i >= period && random.nextInt(12) > 0 ? b[i - period] : random.nextInt(letters));
+        }
+        return b;
+    }
+
+    private static int common(int q, int p) {
+        int n = 0;
+        while (p + n < end && data[q + n] == data[p + n]) {
+            n++;
+        }
+        return n;
+    }
+
+    private static boolean match(int p, int way) {
+        length = 0;
+        if (p > lastStart) {
+            return false;
+        }
+        for (int q = p - 1; q >= 0; q--) {
+            int n = common(q, p);
+            boolean better = way >= 2 ? n > length : length == 0 || way == 1 && length < 8 && n >= 8;
+            if (n >= 4 && better) {
+                length = n;
+                distance = p - q;
+            }
+        }
+        if (way == 3 && length > 0) {
+            int n = length;
+            int d = distance;
+            boolean later = match(p + 1, 2) && length > n;
+            length = later ? 0 : n;
+            distance = d;
+        }
+        return length > 0;
+    }
+
+    private static void rest(ByteArrayOutputStream out, int v) {
+        if (v >= 15) {
+            for (v -= 15; v >= 255; v -= 255) {
+                out.write(255);
+            }
+            out.write(v);
+        }
+    }
+
+    private static byte[] tokens(byte[] past, byte[] row, int way) {
+        data = Checks.join(past, row);
+        end = data.length - 5;
+        lastStart = data.length - 12;
+        ByteArrayOutputStream out = new ByteArrayOutputStream();
+        int since = past.length;
+        int p = since;
+        while (p < data.length) {
+            if (match(p, way)) {
+                out.write(Math.min(15, p - since) << 4 | Math.min(15, length - 4));
+                rest(out, p - since);
+                out.write(data, since, p - since);
+                out.write(distance);
+                out.write(distance >> 8);
+                rest(out, length - 4);
+                p += length;
+                since = p;
+            } else {
+                p++;
+            }
+        }
+        out.write(Math.min(15, p - since) << 4);
+        rest(out, p - since);
+        out.write(data, since, p - since);
+        return out.toByteArray();
+    }
+
+    private static byte[] tags(byte[] row, int way) {
+        data = row;
+        end = row.length;
+        lastStart = row.length;
+        ByteArrayOutputStream out = new ByteArrayOutputStream();
+        for (int n = row.length; ; n >>= 7) {
+            out.write(n < 128 ? n : n & 127 | 128);
+            if (n < 128) {
+                break;
+            }
+        }
+        int since = 0;
+        int p = 0;
+        while (p < row.length) {
+            if (match(p, way)) {
+                literals(out, since, p);
+                copies(out, length, distance);
+                p += length;
+                since = p;
+            } else {
+                p++;
+            }
+        }
+        literals(out, since, p);
+        return out.toByteArray();
+    }
+
+    private static void literals(ByteArrayOutputStream out, int from, int to) {
+        int told = to - from - 1;
+        if (told < 0) {
+            return;
+        }
+        if (told < 60) {
+            out.write(told << 2);
+        } else {
+            out.write(told < 256 ? 240 : 244);
+            out.write(told);
+            if (told >= 256) {
+                out.write(told >> 8);
+            }
+        }
+        out.write(data, from, to - from);
+    }
+
+    private static int price(int n, boolean near) {
+        return near && n >= 4 && n <= 11 ? 2 : 3;
+    }
+
+    private static void copies(ByteArrayOutputStream out, int n, int d) {
+        boolean near = d < 2048;
+        int[] least = new int[n + 1];
+        for (int i = 1; i <= n; i++) {
+            least[i] = Integer.MAX_VALUE;
+            for (int j = 1; j <= Math.min(64, i); j++) {
+                least[i] = Math.min(least[i], price(j, near) + least[i - j]);
+            }
+        }
+        for (int left = n; left > 0; ) {
+            int j = Math.min(64, left);
+            while (price(j, near) + least[left - j] != least[left]) {
+                j--;
+            }
+            if (price(j, near) == 2) {
+                out.write(1 | j - 4 << 2 | d >> 8 << 5);
+                out.write(d);
+            } else {
+                out.write(2 | j - 1 << 2);
+                out.write(d);
+                out.write(d >> 8);
+            }
+            left -= j;
+        }
+    }
+}

@@ -1,0 +1,215 @@
+import java.util.Random;
+
+/** Promises 18, 23 and 24 in FORMAT 4: frames of states that are written, and what about() tells of them. */
+public final class StatesWriteTest {
+    private static final byte[] MAGIC = Checks.bytes(40, 181, 47, 253);
+
+    public static void main(String[] args) {
+        heads();
+        kinds();
+        sequences();
+        latest();
+        literals();
+        modes();
+        refusals();
+        windows();
+        Checks.end("StatesWriteTest");
+    }
+
+    private static void dueWritten(String what, PackHouse x, byte[] row, byte[] want) {
+        Checks.load(x, 0, row);
+        Checks.due(what, x.write(1, 0, 4), want.length);
+        Checks.dueRow(what, x, 1, want);
+        Checks.due(what + ": strayed", x.strayed(0) + x.strayed(1), 0);
+    }
+
+    private static void dueAbout(String what, PackHouse x, int... counts) {
+        for (int i = 0; i < counts.length; i++) {
+            Checks.due(what + ": about " + (i + 1), x.about(i + 1), counts[i]);
+        }
+    }
+
+    private static PackHouse flagged(int flags) {
+        PackHouse x = new PackHouse();
+        x.set(7, flags);
+        return x;
+    }
+
+    private static void heads() {
+        byte[] none = Checks.bytes(1, 0, 0);
+        byte[] sum = Checks.number(Checks.wide(new byte[0]), 4);
+        dueWritten("nothing told", flagged(0), new byte[0], Checks.join(MAGIC, Checks.bytes(0, 48), none));
+        dueWritten("SUMMED", flagged(1), new byte[0], Checks.join(MAGIC, Checks.bytes(4, 48), none, sum));
+        dueWritten("SIZE", flagged(2), new byte[0], Checks.join(MAGIC, Checks.bytes(128, 48, 0, 0, 0, 0), none));
+        dueWritten("SINGLE", flagged(4), new byte[0], Checks.join(MAGIC, Checks.bytes(32, 0), none));
+        PackHouse x = flagged(2);
+        x.set(8, 11);
+        byte[] same = Checks.bytes(97);
+        dueWritten("255", x, Checks.same(97, 255), Checks.join(MAGIC, Checks.bytes(128, 88, 255, 0, 0, 0),
+            Checks.number(8 * 255 + 3, 3), same));
+        dueWritten("256", x, Checks.same(97, 256), Checks.join(MAGIC, Checks.bytes(64, 88, 0, 0),
+            Checks.number(8 * 256 + 3, 3), same));
+        PackHouse y = flagged(4);
+        dueWritten("255 when SINGLE", y, Checks.same(97, 255), Checks.join(MAGIC, Checks.bytes(32, 255),
+            Checks.number(8 * 255 + 3, 3), same));
+        dueWritten("256 when SINGLE", y, Checks.same(97, 256), Checks.join(MAGIC, Checks.bytes(96, 0, 0),
+            Checks.number(8 * 256 + 3, 3), same));
+        dueWritten("an ID without a dictionary", flagged(8), new byte[0], Checks.join(MAGIC, Checks.bytes(0, 48), none));
+    }
+
+    private static void kinds() {
+        PackHouse x = flagged(0);
+        byte[] head = Checks.join(MAGIC, Checks.bytes(0, 48));
+        dueWritten("one byte", x, Checks.bytes(5), Checks.join(head, Checks.bytes(11, 0, 0, 5)));
+        dueAbout("one byte", x, 0, 1, 0, 0, 0, 0, 0, 0, 0, 0, 0, 0);
+        dueWritten("two bytes", x, Checks.bytes(5, 6), Checks.join(head, Checks.bytes(17, 0, 0, 5, 6)));
+        dueAbout("two bytes", x, 1, 0, 0, 0);
+        x.set(2, 3);
+        dueWritten("rows of three", x, Checks.bytes(5, 5, 5, 6, 7, 8, 9), Checks.join(head, Checks.bytes(26, 0, 0, 5),
+            Checks.bytes(24, 0, 0, 6, 7, 8), Checks.bytes(11, 0, 0, 9)));
+        dueAbout("rows of three", x, 1, 2, 0, 0);
+    }
+
+    // abcdefgh twice and more: literals plain, one sequence, tables of one symbol or the known ones.
+    private static void sequences() {
+        PackHouse x = flagged(0);
+        byte[] head = Checks.join(MAGIC, Checks.bytes(0, 48));
+        byte[] row = Checks.text("abcdefghabcdefghabcdefgh");
+        // Cost of the known ones is 6, 5, 6 bits: less than 8. Lowest places: 8 in literal lengths,
+        // 3 in distances (v 11), 13 in match lengths.
+        Checks.load(x, 0, row);
+        int n = x.write(1, 0, 4);
+        byte[] packed = Checks.row(x, 1);
+        Checks.due("block", packed[6] & 255, 8 * (n - 9) + 5);
+        Checks.due("LITERALS, MODES", java.util.Arrays.equals(Checks.part(packed, 9, 20),
+            Checks.join(Checks.bytes(64), Checks.text("abcdefgh"), Checks.bytes(1, 0))), true);
+        // 3 bits of the distance, 6 + 5 + 6 of the states, and the END: 21 bits.
+        Checks.due("bytes in all", n, 9 + 9 + 2 + 3);
+        dueAbout("one sequence", x, 0, 0, 1, 1, 1, 0, 0, 0, 3, 0, 0, 0);
+    }
+
+    private static void latest() {
+        // The same distance twice is told by the first of LATEST, behind a literal: fewer bits than the distance.
+        PackHouse x = flagged(0);
+        byte[] said = Checks.text("abcdefghijklmnopqrstuvwxyz0123456789");
+        byte[] changed = Checks.with(said, 18, '!');
+        Checks.load(x, 0, Checks.join(said, changed));
+        // Additional bits 3 and 5, states 6 + 5 + 6 at last and 5 + 5 + 6 before, and the END: 42 bits.
+        Checks.due("one literal between", x.write(1, 0, 4), 9 + 2 + 37 + 2 + 6);
+        dueAbout("one literal between", x, 0, 0, 1, 2);
+    }
+
+    private static void literals() {
+        PackHouse x = flagged(0);
+        // Of four bytes by turns of random kind no match of 8 comes early; LEAST 8 keeps them literals.
+        x.set(1, 8);
+        Random random = new Random(2);
+        byte[] row = new byte[900];
+        for (int i = 0; i < row.length; i++) {
+            row[i] = (byte) (random.nextInt(16) == 0 ? random.nextInt(40) : random.nextInt(2));
+        }
+        Checks.load(x, 0, row);
+        Checks.due("coded", x.write(1, 0, 4) < 700, true);
+        Checks.due("LITERALS with k 2", x.about(7), 1);
+        x.set(2, 300);
+        Checks.due("in three rows", x.write(1, 0, 4) > 0, true);
+        Checks.due("LITERALS with k 2 or 3", x.about(7) + x.about(8), 3);
+        Checks.due("the first has k 2", x.about(7) >= 1, true);
+        Checks.due("strayed", x.strayed(0) + x.strayed(1), 0);
+        // One literal, again and again: k 1 has two bytes.
+        PackHouse y = flagged(0);
+        y.set(1, 4);
+        byte[] z = Checks.join(Checks.text("zzz"), Checks.text("z0123z"), Checks.text("z0123z"));
+        Checks.load(y, 0, z);
+        y.write(1, 0, 4);
+        Checks.due("k 0 for few", y.about(1) + y.about(5), 1);
+        wayOfOneByte();
+    }
+
+    // Matches of the row ahead leave the bytes between them as literals, which are all the same.
+    private static void wayOfOneByte() {
+        Random random = new Random(6);
+        byte[] first = new byte[600];
+        random.nextBytes(first);
+        byte[] second = Checks.join(Checks.part(first, 0, 100), Checks.same(7, 1), Checks.part(first, 150, 250),
+            Checks.same(7, 1), Checks.part(first, 300, 400), Checks.same(7, 1), Checks.part(first, 450, 597));
+        byte[] all = Checks.join(first, second);
+        PackHouse x = flagged(0);
+        x.set(2, 600);
+        Checks.load(x, 0, Checks.part(all, 0, 600 + second.length));
+        Checks.due("written", x.write(1, 0, 4) > 0, true);
+        Checks.due("LITERALS with k 1", x.about(6), 1);
+        Checks.due("sequences", x.about(4), 4);
+        Checks.due("strayed", x.strayed(0), 0);
+    }
+
+    private static void modes() {
+        // Many sequences of all the same symbols: one table of mode 1 or more, then as they were.
+        Random random = new Random(7);
+        byte[] some = new byte[64];
+        random.nextBytes(some);
+        byte[] row = some;
+        for (int i = 0; i < 40; i++) {
+            row = Checks.join(row, Checks.bytes(100 + i), Checks.part(some, 20, 40));
+        }
+        PackHouse x = flagged(0);
+        x.set(2, 464);
+        Checks.load(x, 0, row);
+        Checks.due("written", x.write(1, 0, 4) > 0, true);
+        int tables = 0;
+        for (int i = 9; i <= 12; i++) {
+            tables += x.about(i);
+        }
+        Checks.due("three tables a block", tables, 3 * x.about(3));
+        Checks.due("mode 1", x.about(10) > 0, true);
+        Checks.due("mode 3", x.about(12) > 0, true);
+        Checks.due("strayed", x.strayed(0) + x.strayed(1), 0);
+    }
+
+    private static void refusals() {
+        PackHouse x = flagged(3);
+        Checks.load(x, 0, Checks.text("abcabcabcabcabcabcabcabc"));
+        Checks.due("written", x.write(1, 0, 4) > 0, true);
+        int kinds = x.about(3);
+        int place = x.about(0);
+        x.set(2, 1);
+        Checks.load(x, 2, Checks.same(1, 16384));
+        Checks.due("65537 and more would come", x.write(1, 2, 4), -1);
+        Checks.due("about stays", x.about(3), kinds);
+        Checks.due("PLACE stays", x.about(0), place);
+        x.give(2, 1, 0);
+        x.set(2, 65536);
+        Checks.due("16385 bytes", x.write(1, 2, 4), -1);
+        x.cut(2, 16384);
+        Checks.due("16384 bytes", x.write(1, 2, 4), 4 + 2 + 2 + 4 + 4);
+        x.set(2, 65536);
+        Checks.load(x, 3, Checks.same(9, 10));
+        x.learn(3);
+        Checks.due("16384 bytes with a dictionary", x.write(1, 2, 4), -1);
+        x.cut(2, 16374);
+        Checks.due("16374 bytes with a dictionary of 10", x.write(2, 2, 4), 16);
+        Checks.due("the row itself", x.size(2), 16);
+        x.forget(1);
+        Checks.due("and back again", x.read(2, 2, 4, 65536), 16374);
+    }
+
+    private static void windows() {
+        // A match 1500 back is not found in a WINDOW of 1024, unless SINGLE makes that the SIZE.
+        Random random = new Random(3);
+        byte[] noise = new byte[1500];
+        random.nextBytes(noise);
+        byte[] row = Checks.join(noise, Checks.part(noise, 0, 200));
+        PackHouse x = flagged(0);
+        x.set(8, 0);
+        Checks.load(x, 0, row);
+        Checks.due("WINDOW 1024", x.write(1, 0, 4), 6 + 2 * 3 + 1700);
+        dueAbout("WINDOW 1024", x, 2, 0, 0, 0);
+        x.set(8, 1);
+        Checks.due("WINDOW 2048", x.write(1, 0, 4) < 1600, true);
+        dueAbout("WINDOW 2048", x, 0, 0, 1, 1);
+        x.set(8, 0);
+        x.set(7, 4);
+        Checks.due("SINGLE", x.write(1, 0, 4) < 1600, true);
+        dueAbout("SINGLE", x, 0, 0, 1, 1);
+    }
+}

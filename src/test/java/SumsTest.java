@@ -1,0 +1,153 @@
+import java.util.Random;
+import java.util.zip.CRC32C;
+
+/** Promises 12 to 14: narrow, wide, poly. */
+public final class SumsTest {
+    public static void main(String[] args) {
+        vectors();
+        parts();
+        polynomial();
+        plainly();
+        Checks.end("SumsTest");
+    }
+
+    private static void vectors() {
+        PackHouse x = new PackHouse();
+        Checks.due("narrow of nothing", x.narrow(0, 0, 0, 0), 0x02CC5D05);
+        Checks.due("narrow of nothing, seeded", x.narrow(0, 0, 0, 0x9E3779B1), 0x36B78AE7);
+        Checks.due("wide of nothing", x.wide(0, 0, 0, 0), 0xEF46DB3751D8E999L);
+        Checks.due("poly of nothing", x.poly(0, 0, 0, false), 0);
+        Checks.load(x, 0, Checks.text("abc"));
+        Checks.due("narrow of abc", x.narrow(0, 0, 3, 0), 0x32D153FF);
+        Checks.due("wide of abc", x.wide(0, 0, 3, 0), 0x44BC2CF5AD770999L);
+        Checks.load(x, 0, Checks.text("123456789"));
+        Checks.due("poly of digits", x.poly(0, 0, 9, false), 0xE3069283);
+        Checks.due("poly of digits, masked", x.poly(0, 0, 9, true),
+            Integer.rotateLeft(0xE3069283, 17) + 0xA282EAD8);
+    }
+
+    private static void parts() {
+        PackHouse x = new PackHouse();
+        Checks.load(x, 0, Checks.text("xxabcxx"));
+        Checks.due("narrow of a part", x.narrow(0, 2, 5, 0), 0x32D153FF);
+        Checks.due("wide of a part", x.wide(0, 2, 5, 0), 0x44BC2CF5AD770999L);
+        int[][] none = {{3, 2}, {-1, 3}, {0, 8}, {8, 8}, {Integer.MIN_VALUE, 1}, {0, Integer.MAX_VALUE}, {7, 7}};
+        for (int[] part : none) {
+            Checks.due("narrow of no part", x.narrow(0, part[0], part[1], 0), 0x02CC5D05);
+            Checks.due("wide of no part", x.wide(0, part[0], part[1], 0), 0xEF46DB3751D8E999L);
+            Checks.due("poly of no part", x.poly(0, part[0], part[1], false), 0);
+            Checks.due("poly of no part, masked", x.poly(0, part[0], part[1], true), (int) 2726488792L);
+        }
+        for (int r : new int[] {-1, 4}) {
+            Checks.due("narrow of no row", x.narrow(r, 0, 0, 5), 0);
+            Checks.due("wide of no row", x.wide(r, 0, 0, 5), 0);
+            Checks.due("poly of no row", x.poly(r, 0, 0, true), 0);
+        }
+    }
+
+    private static void polynomial() {
+        Random random = new Random(4);
+        byte[] b = new byte[300];
+        random.nextBytes(b);
+        PackHouse x = new PackHouse();
+        Checks.load(x, 1, b);
+        for (int i = 0; i < 100; i++) {
+            int from = random.nextInt(301);
+            int to = from + random.nextInt(301 - from);
+            CRC32C sum = new CRC32C();
+            sum.update(b, from, to - from);
+            int v = (int) sum.getValue();
+            Checks.due("poly " + from + " " + to, x.poly(1, from, to, false), v);
+            Checks.due("poly masked", x.poly(1, from, to, true), Integer.rotateLeft(v, 17) + (int) 2726488792L);
+        }
+    }
+
+    private static void plainly() {
+        Random random = new Random(5);
+        byte[] b = new byte[200];
+        random.nextBytes(b);
+        PackHouse x = new PackHouse();
+        Checks.load(x, 1, b);
+        for (int n = 0; n <= 100; n++) {
+            int from = random.nextInt(100);
+            long seed = n % 3 == 0 ? 0 : random.nextLong();
+            byte[] part = Checks.part(b, from, from + n);
+            Checks.due("narrow of " + n, x.narrow(1, from, from + n, (int) seed), plainNarrow(part, (int) seed));
+            Checks.due("wide of " + n, x.wide(1, from, from + n, seed), plainWide(part, seed));
+        }
+    }
+
+    private static long le(byte[] b, int at, int n) {
+        long v = 0;
+        for (int i = 0; i < n; i++) {
+            v |= (b[at + i] & 255L) << 8 * i;
+        }
+        return v;
+    }
+
+    private static int plainNarrow(byte[] b, int seed) {
+        int[] p = {0, (int) 2654435761L, (int) 2246822519L, (int) 3266489917L, 668265263, 374761393};
+        int at = 0;
+        int h = seed + p[5];
+        if (b.length >= 16) {
+            int[] lanes = {seed + p[1] + p[2], seed + p[2], seed, seed - p[1]};
+            int[] turns = {1, 7, 12, 18};
+            for (; b.length - at >= 16; at += 16) {
+                for (int i = 0; i < 4; i++) {
+                    lanes[i] = Integer.rotateLeft(lanes[i] + (int) le(b, at + 4 * i, 4) * p[2], 13) * p[1];
+                }
+            }
+            h = 0;
+            for (int i = 0; i < 4; i++) {
+                h += Integer.rotateLeft(lanes[i], turns[i]);
+            }
+        }
+        h += b.length;
+        for (; b.length - at >= 4; at += 4) {
+            h = Integer.rotateLeft(h + (int) le(b, at, 4) * p[3], 17) * p[4];
+        }
+        for (; at < b.length; at++) {
+            h = Integer.rotateLeft(h + (b[at] & 255) * p[5], 11) * p[1];
+        }
+        h = (h ^ (h >>> 15)) * p[2];
+        h = (h ^ (h >>> 13)) * p[3];
+        return h ^ (h >>> 16);
+    }
+
+    private static long plainWide(byte[] b, long seed) {
+        long[] q = {0, Long.parseUnsignedLong("11400714785074694791"), Long.parseUnsignedLong("14029467366897019727"),
+            1609587929392839161L, Long.parseUnsignedLong("9650029242287828579"), 2870177450012600261L};
+        int at = 0;
+        long h = seed + q[5];
+        if (b.length >= 32) {
+            long[] lanes = {seed + q[1] + q[2], seed + q[2], seed, seed - q[1]};
+            int[] turns = {1, 7, 12, 18};
+            for (; b.length - at >= 32; at += 32) {
+                for (int i = 0; i < 4; i++) {
+                    lanes[i] = Long.rotateLeft(lanes[i] + le(b, at + 8 * i, 8) * q[2], 31) * q[1];
+                }
+            }
+            h = 0;
+            for (int i = 0; i < 4; i++) {
+                h += Long.rotateLeft(lanes[i], turns[i]);
+            }
+            for (long lane : lanes) {
+                h = (h ^ (Long.rotateLeft(lane * q[2], 31) * q[1])) * q[1] + q[4];
+            }
+        }
+        h += b.length;
+        for (; b.length - at >= 8; at += 8) {
+            h = Long.rotateLeft(h ^ (Long.rotateLeft(le(b, at, 8) * q[2], 31) * q[1]), 27) * q[1] + q[4];
+        }
+        if (b.length - at >= 4) {
+            h = Long.rotateLeft(h ^ (le(b, at, 4) * q[1]), 23) * q[2] + q[3];
+            at += 4;
+        }
+        for (; at < b.length; at++) {
+            h = Long.rotateLeft(h ^ ((b[at] & 255) * q[5]), 11) * q[1];
+        }
+        h = (h ^ (h >>> 33)) * q[2];
+        h = (h ^ (h >>> 29)) * q[3];
+        return h ^ (h >>> 32);
+    }
+}
