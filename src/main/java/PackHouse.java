@@ -1552,7 +1552,8 @@ public final class PackHouse {
             lay();
         }
 
-        private void lay() {
+        // Finds places and numbers by the points.
+        void lay() {
             int all = 1 << order;
             int high = all - 1;
             int start = 0;
@@ -1636,7 +1637,8 @@ public final class PackHouse {
             return cost;
         }
 
-        void becomeByCounts(int[] counts, int total, int orderNow) {
+        // Finds the points alone: not every share that is tried is worth its places.
+        void takeCounts(int[] counts, int total, int orderNow) {
             order = orderNow;
             int lack = 1 << order;
             for (int s = 0; s < symbols; s++) {
@@ -1646,7 +1648,6 @@ public final class PackHouse {
             }
             giveRest(counts, total, lack);
             takeExcess(-lack);
-            lay();
         }
 
         private void giveRest(int[] counts, int total, int lack) {
@@ -1696,7 +1697,7 @@ public final class PackHouse {
                 int u = points[s] + 1;
                 int few = (2 << width) - 2 - lack;
                 out.addBits(u >= 1 << width ? u + few : u, u < few ? width : width + 1);
-                lack -= masses[s];
+                lack -= points[s] < 0 ? 1 : points[s];
                 if (points[s] == 0) {
                     int zeros = zerosBehind(s);
                     for (int i = 0; i < zeros / 3; i++) {
@@ -1924,7 +1925,8 @@ public final class PackHouse {
         private void describeByStates(Row out, int k, int shareOrder) {
             out.clear();
             out.reserve(SHARE_ROOM + k);
-            weightShare.becomeByCounts(weightCounts, k, shareOrder);
+            weightShare.takeCounts(weightCounts, k, shareOrder);
+            weightShare.lay();
             weightShare.tell(out);
             int now = weightShare.lowestPlace(weights[k - 1]);
             int other = weightShare.lowestPlace(weights[k - 2]);
@@ -2922,7 +2924,6 @@ public final class PackHouse {
             int different = countSymbols(i);
             Share before = now.tables[i];
             Share fresh = before == ownTables[i] ? otherTables[i] : ownTables[i];
-            int order = bestOrder(fresh, i, different);
             int cost = GREATEST_INT;
             if (known[i].holds(symbolCounts)) {
                 cost = known[i].costOf(symbols[i], n);
@@ -2932,7 +2933,8 @@ public final class PackHouse {
                 cost = 8;
                 modes[i] = 1;
             }
-            if (leastCost < cost) {
+            int order = bestOrder(fresh, i, different, cost);
+            if (order > 0) {
                 cost = leastCost;
                 modes[i] = 2;
             }
@@ -2945,24 +2947,30 @@ public final class PackHouse {
                 packed.add(symbols[i][0]);
             } else if (modes[i] == 2) {
                 packShare(packed, fresh, order);
+                fresh.lay();
             }
         }
 
         private void packShare(Row out, Share share, int order) {
-            share.becomeByCounts(symbolCounts, finder.found, order);
+            share.takeCounts(symbolCounts, finder.found, order);
             out.reserve(SHARE_ROOM);
             share.tell(out);
         }
 
-        // The order that mode 2 takes; leaves its cost in leastCost.
-        private int bestOrder(Share share, int i, int different) {
+        // The order that mode 2 takes, 0 when its cost is not below a limit; leaves the cost in leastCost.
+        private int bestOrder(Share share, int i, int different, int limit) {
             int best = 0;
-            leastCost = GREATEST_INT;
+            leastCost = limit;
             for (int order = 5; order <= GREATEST_ORDERS[i]; order++) {
                 if (1 << order >= different) {
                     told.clear();
                     packShare(told, share, order);
-                    int cost = 8 * told.count + share.costOf(symbols[i], finder.found);
+                    // The last state alone costs as many bits as the order is: many end here.
+                    boolean may = 8 * told.count + order < leastCost;
+                    if (may) {
+                        share.lay();
+                    }
+                    int cost = may ? 8 * told.count + share.costOf(symbols[i], finder.found) : leastCost;
                     if (cost < leastCost) {
                         leastCost = cost;
                         best = order;
@@ -3048,7 +3056,7 @@ public final class PackHouse {
 
         private void packOwnShare(Row out, int i) {
             int different = countSymbols(i);
-            packShare(out, ownTables[i], bestOrder(ownTables[i], i, different));
+            packShare(out, ownTables[i], bestOrder(ownTables[i], i, different, GREATEST_INT));
         }
     }
 }
