@@ -72,82 +72,8 @@ public final class SumsTest {
             int from = random.nextInt(100);
             long seed = n % 3 == 0 ? 0 : random.nextLong();
             byte[] part = Checks.part(b, from, from + n);
-            Checks.due("narrow of " + n, x.narrow(1, from, from + n, (int) seed), plainNarrow(part, (int) seed));
-            Checks.due("wide of " + n, x.wide(1, from, from + n, seed), plainWide(part, seed));
+            Checks.due("narrow of " + n, x.narrow(1, from, from + n, (int) seed), Checks.narrow(part, (int) seed));
+            Checks.due("wide of " + n, x.wide(1, from, from + n, seed), Checks.wide(part, seed));
         }
-    }
-
-    private static long le(byte[] b, int at, int n) {
-        long v = 0;
-        for (int i = 0; i < n; i++) {
-            v |= (b[at + i] & 255L) << 8 * i;
-        }
-        return v;
-    }
-
-    private static int plainNarrow(byte[] b, int seed) {
-        int[] p = {0, (int) 2654435761L, (int) 2246822519L, (int) 3266489917L, 668265263, 374761393};
-        int at = 0;
-        int h = seed + p[5];
-        if (b.length >= 16) {
-            int[] lanes = {seed + p[1] + p[2], seed + p[2], seed, seed - p[1]};
-            int[] turns = {1, 7, 12, 18};
-            for (; b.length - at >= 16; at += 16) {
-                for (int i = 0; i < 4; i++) {
-                    lanes[i] = Integer.rotateLeft(lanes[i] + (int) le(b, at + 4 * i, 4) * p[2], 13) * p[1];
-                }
-            }
-            h = 0;
-            for (int i = 0; i < 4; i++) {
-                h += Integer.rotateLeft(lanes[i], turns[i]);
-            }
-        }
-        h += b.length;
-        for (; b.length - at >= 4; at += 4) {
-            h = Integer.rotateLeft(h + (int) le(b, at, 4) * p[3], 17) * p[4];
-        }
-        for (; at < b.length; at++) {
-            h = Integer.rotateLeft(h + (b[at] & 255) * p[5], 11) * p[1];
-        }
-        h = (h ^ (h >>> 15)) * p[2];
-        h = (h ^ (h >>> 13)) * p[3];
-        return h ^ (h >>> 16);
-    }
-
-    private static long plainWide(byte[] b, long seed) {
-        long[] q = {0, Long.parseUnsignedLong("11400714785074694791"), Long.parseUnsignedLong("14029467366897019727"),
-            1609587929392839161L, Long.parseUnsignedLong("9650029242287828579"), 2870177450012600261L};
-        int at = 0;
-        long h = seed + q[5];
-        if (b.length >= 32) {
-            long[] lanes = {seed + q[1] + q[2], seed + q[2], seed, seed - q[1]};
-            int[] turns = {1, 7, 12, 18};
-            for (; b.length - at >= 32; at += 32) {
-                for (int i = 0; i < 4; i++) {
-                    lanes[i] = Long.rotateLeft(lanes[i] + le(b, at + 8 * i, 8) * q[2], 31) * q[1];
-                }
-            }
-            h = 0;
-            for (int i = 0; i < 4; i++) {
-                h += Long.rotateLeft(lanes[i], turns[i]);
-            }
-            for (long lane : lanes) {
-                h = (h ^ (Long.rotateLeft(lane * q[2], 31) * q[1])) * q[1] + q[4];
-            }
-        }
-        h += b.length;
-        for (; b.length - at >= 8; at += 8) {
-            h = Long.rotateLeft(h ^ (Long.rotateLeft(le(b, at, 8) * q[2], 31) * q[1]), 27) * q[1] + q[4];
-        }
-        if (b.length - at >= 4) {
-            h = Long.rotateLeft(h ^ (le(b, at, 4) * q[1]), 23) * q[2] + q[3];
-            at += 4;
-        }
-        for (; at < b.length; at++) {
-            h = Long.rotateLeft(h ^ ((b[at] & 255) * q[5]), 11) * q[1];
-        }
-        h = (h ^ (h >>> 33)) * q[2];
-        h = (h ^ (h >>> 29)) * q[3];
-        return h ^ (h >>> 32);
     }
 }
