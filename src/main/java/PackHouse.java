@@ -2704,7 +2704,8 @@ public final class PackHouse {
             boolean single = (flags & SINGLE) != 0;
             int f = 0;
             if (single || (flags & SIZED) != 0) {
-                f = n < 256 ? single ? 0 : 2 : n < 65536 + 256 ? 1 : 2;
+                // Two bytes tell from 256 on more than is ever written.
+                f = n >= 256 ? 1 : single ? 0 : 2;
             }
             int g = 0;
             if ((flags & NAMED) != 0 && id != 0) {
@@ -2865,15 +2866,11 @@ public final class PackHouse {
         // The number of sequences and, if there are some, their symbols; answers where MODES stand.
         private int packNumber() {
             int n = finder.found;
-            if (n < 128) {
-                packed.add(n);
-            } else if (n < 32512) {
+            // Two bytes are enough: 16,384 bytes have no 32,512 matches.
+            if (n >= 128) {
                 packed.add(128 + (n >> 8));
-                packed.add(n);
-            } else {
-                packed.add(255);
-                packed.addNumber(n - 32512, 2);
             }
+            packed.add(n);
             int modesAt = packed.count;
             if (n > 0) {
                 packed.add(0);

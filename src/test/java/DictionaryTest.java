@@ -125,6 +125,21 @@ public final class DictionaryTest {
         Checks.due("just enough content", x.learn(2), 8);
     }
 
+    // Letters that the dictionary's CODES have, by turns that it has not, and at last a byte without a code.
+    private static void withoutCode(PackHouse x) {
+        byte[] row = Checks.text("oeoetoteanasnioitrtserteonaotsoehriasneithoraetnhsio");
+        Checks.load(x, 0, row);
+        x.write(2, 0, 4);
+        Checks.due("CODES as they were", x.about(8), 1);
+        for (int v : new int[] {1, 200, 255}) {
+            x.cut(0, row.length);
+            x.give(0, 1, (long) v << 56);
+            x.write(2, 0, 4);
+            Checks.due("a byte without a code", x.about(8), 0);
+            Checks.due("strayed", x.strayed(0), 0);
+        }
+    }
+
     private static void used() {
         PackHouse x = new PackHouse();
         x.set(9, 300);
@@ -138,6 +153,9 @@ public final class DictionaryTest {
             2 + 256 * 44 + 65536);
         Checks.due("read", x.read(2, 1, 4, 65536), row.length);
         Checks.due("differ", x.differ(0, 2), -1);
+        withoutCode(x);
+        Checks.load(x, 0, row);
+        x.write(1, 0, 4);
         Checks.load(x, 3, SOURCE);
         Checks.due("the content alone", x.learn(3), SOURCE.length);
         Checks.due("another ID", x.read(2, 1, 4, 65536), -4);

@@ -35,6 +35,7 @@ public final class KindTest {
         }
         dueKind("no bytes", new byte[0], 0);
         dueKind("spare bytes alone", spare(90, 3), 0);
+        dueKind("spare bytes of none alone", spare(90, 0), 0);
         dueKind("spare bytes that are cut", Checks.part(spare(90, 3), 0, 10), 0);
         dueKind("half of spare bytes", Checks.part(spare(90, 3), 0, 6), 0);
         dueKind("spare bytes without a sign", Checks.with(spare(90, 3), 7, 255), 0);

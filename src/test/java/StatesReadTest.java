@@ -69,6 +69,7 @@ public final class StatesReadTest {
         dueRead("SUMMED", Checks.join(MAGIC, Checks.bytes(4, 0), b, sum), "abc");
         byte[] spare = Checks.join(Checks.bytes(80, 42, 77, 24), Checks.number(1, 4), Checks.bytes(7));
         dueRead("frames and spare bytes", Checks.join(spare, frame(b), frame(b), spare), "abcabc");
+        dueRead("spare bytes of none at the end", Checks.join(frame(b), Checks.part(spare, 0, 4), new byte[4]), "abc");
     }
 
     private static void headFaults() {
@@ -146,6 +147,8 @@ public final class StatesReadTest {
         dueFault("a block of no bytes", one(), 10, 9);
         dueFault("a head that is cut", one(Checks.bytes(4)), 10, 10);
         dueFault("a head of three that is cut", one(Checks.bytes(12, 0)), 10, 11);
+        dueFault("a head that is cut, bytes behind the block", Checks.join(frame(packed(0, Checks.bytes(12))),
+            Checks.same(255, 9)), 10, 10);
         dueFault("literals lack", one(Checks.bytes(24), Checks.text("ab")), 10, 12);
         dueFault("the byte lacks", one(Checks.bytes(41)), 10, 10);
         dueFault("no number of sequences", one(Checks.bytes(24), ABC), 10, 13);
@@ -213,6 +216,12 @@ public final class StatesReadTest {
         dueFault("a DESCRIPTION with no two weights 1", one(coded(2, 0, 3, stray, Checks.bytes(11)), none), 12, 12);
         dueFault("no weight at all", one(coded(2, 0, 3, Checks.with(stray, 49, 0), Checks.bytes(11)), none), 12, 12);
         dueFault("a weight too great", one(coded(2, 0, 3, Checks.bytes(128, 0xC0), Checks.bytes(11)), none), 12, 12);
+        byte[] all = Checks.bytes(139, 0xCB, 0xA9, 0x87, 0x65, 0x43, 0x21);
+        dueFault("lengths up to 12", one(coded(2, 0, 3, all, Checks.bytes(11)), none), 12, 12);
+        byte[] most = Checks.bytes(138, 0xBA, 0x98, 0x76, 0x54, 0x32, 0x10);
+        dueRead("lengths up to 11", one(coded(2, 0, 3, most, Checks.bytes(15)), none), "\0\0\0");
+        dueFault("what lacks is no power of two", one(coded(2, 0, 3, Checks.bytes(129, 0x31), Checks.bytes(11)), none),
+            12, 12);
         dueFault("by states, no share", one(coded(2, 0, 3, Checks.bytes(0), Checks.bytes(11)), none), 12, 12);
         int at = 12 + 50;
         dueFault("no stream", one(coded(2, 0, 3, description()), none), 14, at);
@@ -247,6 +256,10 @@ public final class StatesReadTest {
         // First a sequence of nine literals and distance 8 as the third of LATEST, symbol 1 with bit 1: v 3.
         byte[] third = Checks.bytes(1, 84, 9, 1, 0, 3);
         dueRead("the third", one(lits, some, third), "abcdefghibcdjkl");
+        // The third twice: 8, then what was the second; literal lengths 9 and 1 by the known share.
+        byte[] once = packed(0, lits, some, third);
+        byte[] more = packed(1, Checks.bytes(8, 33), Checks.bytes(1, 84, 1, 1, 0, 3));
+        dueRead("the third, which goes behind", frame(once, more), "abcdefghibcdjkl!jkl");
         byte[] second = Checks.bytes(1, 84, 9, 1, 0, 2);
         dueRead("the second", one(lits, some, second), "abcdefghifghjkl");
         byte[] first = Checks.bytes(1, 84, 9, 0, 0, 1);
@@ -336,6 +349,12 @@ public final class StatesReadTest {
         // Literal length 512 + 9 bits (510), symbol 28; distance symbol 0: the first.
         byte[] most = Checks.join(lits, Checks.bytes(1, 84, 28, 0, 0), Checks.number(510 | 1 << 9, 2));
         dueFault("the block comes to more than MOST OF A BLOCK", Checks.join(head, packed(1, most)), 20, 9 + 3 + 5);
+        byte[] short8 = Checks.join(lits, Checks.bytes(1, 84, 28, 0, 0), Checks.number(254 | 1 << 8, 2));
+        dueFault("a bit of a literal length lacks", Checks.join(head, packed(1, short8)), 17, 9 + 3 + 5);
+        byte[] match = Checks.join(Checks.bytes(8, 120, 1, 84, 1, 0, 42), Checks.bytes(31 | 1 << 5));
+        dueRead("five bits of a match length", frame(packed(1, match)), "x".repeat(1 + 99 + 31));
+        byte[] shortMatch = Checks.join(Checks.bytes(8, 120, 1, 84, 1, 0, 42), Checks.bytes(15 | 1 << 4));
+        dueFault("a bit of a match length lacks", frame(packed(1, shortMatch)), 17, 9 + 7);
         byte[] fewer = Checks.join(Checks.number(1022 << 4 | 5, 2), Checks.bytes(120, 1, 84, 28, 0, 0),
             Checks.number(1 << 9, 2));
         dueFault("by the literals left", Checks.join(head, packed(1, fewer)), 20, 9 + 3 + 5);

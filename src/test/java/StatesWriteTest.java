@@ -10,6 +10,8 @@ public final class StatesWriteTest {
         sequences();
         latest();
         literals();
+        fourStreams();
+        oneLiteral();
         modes();
         refusals();
         windows();
@@ -141,6 +143,98 @@ public final class StatesWriteTest {
         Checks.due("LITERALS with k 1", x.about(6), 1);
         Checks.due("sequences", x.about(4), 4);
         Checks.due("strayed", x.strayed(0), 0);
+    }
+
+    // Each seven of these 16,384 bytes, of four kinds, stand there once: all are literals when LEAST is 8.
+    private static byte[] unlike() {
+        byte[] b = new byte[16384];
+        boolean[] seen = new boolean[16384];
+        int last = 0;
+        seen[0] = true;
+        for (int i = 7; i < b.length; i++) {
+            int v = 3;
+            while (v > 0 && seen[(last << 2 | v) & 16383]) {
+                v--;
+            }
+            b[i] = (byte) v;
+            last = (last << 2 | v) & 16383;
+            seen[last] = true;
+        }
+        return b;
+    }
+
+    // A frame that stands for them: a row of so many bytes cannot be given in 512 calls.
+    private static byte[] frameOf(byte[] row) {
+        int c = row.length / 4;
+        byte[] all = Checks.join(Checks.bytes(130, 0x11, 0x10), Checks.number(c / 4 + 1, 2), Checks.number(c / 4 + 1, 2),
+            Checks.number(c / 4 + 1, 2));
+        for (int i = 0; i < 4; i++) {
+            byte[] stream = new byte[c / 4 + 1];
+            for (int j = 0; j < c; j++) {
+                stream[j / 4] |= (byte) (row[i * c + c - 1 - j] << 2 * (j % 4));
+            }
+            stream[c / 4] = 1;
+            all = Checks.join(all, stream);
+        }
+        long head = 2 | 3 << 2 | (long) row.length << 4 | (long) all.length << 22;
+        return Checks.join(MAGIC, Checks.bytes(0, 80), Checks.number(8L * (all.length + 6) + 5, 3),
+            Checks.number(head, 5), all, Checks.bytes(0));
+    }
+
+    // Where so many bytes begin of which each kind is about a quarter: their codes have two bits.
+    private static int evenPart(byte[] row, int n) {
+        for (int from = 0; from + n < row.length; from++) {
+            int[] counts = new int[4];
+            for (int i = from; i < from + n; i++) {
+                counts[row[i]]++;
+            }
+            java.util.Arrays.sort(counts);
+            if (counts[0] + counts[1] >= counts[3]) {
+                return from;
+            }
+        }
+        return 0;
+    }
+
+    private static void fourStreams() {
+        byte[] row = unlike();
+        PackHouse x = flagged(0);
+        Checks.load(x, 1, frameOf(row));
+        Checks.due("read", x.read(3, 1, 4, 65536), 16384);
+        Checks.dueRow("read", x, 3, row);
+        x.set(1, 8);
+        // Two bits each: a description of 3 bytes, 6 for the three numbers, the END in a byte of its own or not.
+        int[][] due = {{16384, 5 + 9 + 4 * 1025}, {16383, 4 + 9 + 3 * 1025 + 1024}, {1024, 4 + 9 + 4 * 65},
+            {1025, 4 + 9 + 3 * 65 + 64}, {1023, 3 + 3 + 256}};
+        for (int[] way : due) {
+            x.cut(0, 0);
+            int from = evenPart(row, way[0]);
+            x.join(0, 3, from, from + way[0]);
+            Checks.due(way[0] + " literals", x.write(1, 0, 4), 9 + way[1] + 1);
+            Checks.due("with k 2", x.about(7), 1);
+            Checks.due("no sequences", x.about(4), 0);
+            Checks.due("strayed", x.strayed(0) + x.strayed(1), 0);
+        }
+        // The same codes are cheaper in the second row.
+        x.cut(0, 0);
+        x.join(0, 3, 0, 16384);
+        x.set(2, 8192);
+        Checks.due("two rows", x.write(1, 0, 4), 6 + 2 * (3 + 4 + 6 + 4 * 513 + 1) + 3);
+        Checks.due("k 2, then k 3", 10 * x.about(7) + x.about(8), 11);
+    }
+
+    // One literal between two matches: plain and one byte have as many bytes, and plain comes first.
+    private static void oneLiteral() {
+        Random random = new Random(12);
+        byte[] first = new byte[300];
+        random.nextBytes(first);
+        PackHouse x = flagged(0);
+        x.set(2, 300);
+        Checks.load(x, 0, Checks.join(first, Checks.part(first, 100, 250), Checks.bytes(first[250] + 1),
+            Checks.part(first, 10, 90)));
+        Checks.due("written", x.write(1, 0, 4) > 0, true);
+        Checks.due("LITERALS with k 0", x.about(5), 1);
+        Checks.due("sequences", x.about(4), 2);
     }
 
     private static void modes() {

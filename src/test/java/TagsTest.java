@@ -60,21 +60,24 @@ public final class TagsTest {
     }
 
     private static void far() {
-        for (int distance : new int[] {2047, 2048}) {
-            PackHouse x = new PackHouse();
-            byte[] random = new byte[distance - 65];
-            new java.util.Random(8).nextBytes(random);
-            byte[] said = rising(65);
-            byte[] row = Checks.join(said, random, said);
-            Checks.load(x, 0, row);
-            int n = x.write(1, 0, 2);
-            byte[] packed = Checks.row(x, 1);
-            byte[] want = distance < 2048
-                ? Checks.bytes(2 | 60 << 2, distance, distance >> 8, 1 | distance >> 8 << 5, distance)
-                : Checks.bytes(2 | 63 << 2, distance, distance >> 8, 2, distance, distance >> 8);
-            byte[] end = Checks.part(packed, n - want.length, n);
-            Checks.due("copies at distance " + distance, java.util.Arrays.equals(end, want), true);
-        }
+        dueFar(2047, 65, Checks.bytes(2 | 60 << 2, 255, 7, 1 | 7 << 5, 255));
+        dueFar(2048, 65, Checks.bytes(2 | 63 << 2, 0, 8, 2, 0, 8));
+        dueFar(2048, 66, Checks.bytes(2 | 63 << 2, 0, 8, 2 | 1 << 2, 0, 8));
+        dueFar(2050, 68, Checks.bytes(2 | 63 << 2, 2, 8, 2 | 3 << 2, 2, 8));
+    }
+
+    private static void dueFar(int distance, int n, byte[] want) {
+        PackHouse x = new PackHouse();
+        byte[] random = new byte[distance - n];
+        new java.util.Random(8).nextBytes(random);
+        byte[] said = rising(n);
+        byte[] row = Checks.join(said, random, said);
+        Checks.load(x, 0, row);
+        int size = x.write(1, 0, 2);
+        x.cut(2, 0);
+        x.join(2, 1, size - want.length, size);
+        Checks.dueRow("copies of " + n + " at distance " + distance, x, 2, want);
+        Checks.due("strayed", x.strayed(0), 0);
     }
 
     private static void readBlocks() {

@@ -167,6 +167,8 @@ public final class TokensTest {
         Checks.dueRead("one", x, 1, one, 3, Checks.text("abc"));
         Checks.dueRead("frames and spare bytes", x, 1, Checks.join(spare, one, spare, one, one), 9,
             Checks.text("abcabcabc"));
+        Checks.dueRead("spare bytes of none at the end", x, 1, Checks.join(one, Checks.part(spare, 0, 4), new byte[4]), 9,
+            Checks.text("abc"));
         Checks.dueRead("a block for itself of no bytes", x, 1, Checks.join(head(64, 4), block(1 << 31, new byte[0]),
             end), 0, new byte[0]);
         byte[] copy = Checks.bytes(0x00, 3, 0, 0x10, 33);
