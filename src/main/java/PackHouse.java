@@ -508,8 +508,13 @@ public final class PackHouse {
         return after > end ? -1 : (int) after;
     }
 
+    // The greatest k with 2^k not above v, which is above 0.
     private static int highestBit(int v) {
-        return 31 - Integer.numberOfLeadingZeros(v);
+        int k = 0;
+        for (int half = v >> 1; half > 0; half >>= 1) {
+            k++;
+        }
+        return k;
     }
 
     private static int rotated(int v, int k) {
@@ -1483,7 +1488,7 @@ public final class PackHouse {
             if (end <= from || d[end - 1] == 0) {
                 return false;
             }
-            left = 8 * (end - from) - 1 - Integer.numberOfLeadingZeros((d[end - 1] & 255) << 24);
+            left = 8 * (end - from - 1) + highestBit(d[end - 1] & 255);
             return true;
         }
 
