@@ -8,6 +8,7 @@ public final class DictionaryTest {
         made();
         refusedMade();
         formed();
+        afresh();
         wrong();
         used();
         Checks.end("DictionaryTest");
@@ -90,6 +91,30 @@ public final class DictionaryTest {
         x.forget(1);
         Checks.due("no bytes", x.about(19), 0);
         Checks.due("no ID", x.about(20), 0);
+    }
+
+    // What was there before leaves nothing behind.
+    private static void afresh() {
+        PackHouse x = new PackHouse();
+        byte[] d = dictionary(x);
+        int n = d.length - SOURCE.length;
+        // LATEST 7, 9, 11; two sequences by them.
+        byte[] other = Checks.with(Checks.with(Checks.with(d, n - 12, 7), n - 8, 9), n - 4, 11);
+        Checks.load(x, 2, other);
+        Checks.due("learn", x.learn(2), SOURCE.length);
+        byte[] first = Checks.bytes(40, 181, 47, 253, 0, 80, 101, 0, 0, 40, 118, 119, 120, 121, 122, 1, 84, 5, 0, 0, 1);
+        Checks.dueRead("LATEST of the dictionary", x, 4, first, 99, Checks.text("vwxyzeav"));
+        x.forget(1);
+        Checks.dueRead("LATEST of none", x, 4, first, 99, Checks.text("vwxyzzzz"));
+        Checks.load(x, 2, other);
+        x.learn(2);
+        Checks.load(x, 2, SOURCE);
+        x.learn(2);
+        Checks.dueRead("LATEST of one that is content alone", x, 4, first, 99, Checks.text("vwxyzzzz"));
+        Checks.load(x, 0, SOURCE);
+        x.write(1, 0, 4);
+        x.write(1, 0, 5);
+        Checks.dueRow("made behind other calls", x, 1, d);
     }
 
     private static void dueLearn(String what, PackHouse x, byte[] row, int want) {

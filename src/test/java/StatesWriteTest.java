@@ -11,6 +11,8 @@ public final class StatesWriteTest {
         latest();
         literals();
         fourStreams();
+        manyPlain();
+        manySequences();
         oneLiteral();
         modes();
         refusals();
@@ -221,6 +223,46 @@ public final class StatesWriteTest {
         x.set(2, 8192);
         Checks.due("two rows", x.write(1, 0, 4), 6 + 2 * (3 + 4 + 6 + 4 * 513 + 1) + 3);
         Checks.due("k 2, then k 3", 10 * x.about(7) + x.about(8), 11);
+    }
+
+    // More than 4095 literals that no code makes shorter: a head of three bytes.
+    private static void manyPlain() {
+        byte[] noise = new byte[4500];
+        new Random(15).nextBytes(noise);
+        PackHouse x = flagged(0);
+        Checks.load(x, 0, noise);
+        x.join(0, 0, 0, 500);
+        // Literal length 4500: 12 additional bits; match length 500: 8; distance 4500: 12; states 17; the END.
+        Checks.due("4500 literals", x.write(1, 0, 4), 9 + 3 + 4500 + 2 + 7);
+        Checks.due("with k 0", x.about(5), 1);
+        Checks.due("strayed", x.strayed(0), 0);
+        // The same with 4096, all alike in the second row.
+        Checks.load(x, 0, Checks.part(noise, 0, 300));
+        x.give(0, 1, 0);
+        x.again(0, 1, 4094);
+        x.join(0, 0, 0, 300);
+        x.set(2, 4695);
+        Checks.due("written", x.write(1, 0, 4) > 0, true);
+        Checks.due("strayed", x.strayed(0), 0);
+    }
+
+    // 127 sequences are told in one byte, 128 in two.
+    private static void manySequences() {
+        byte[] base = new byte[20];
+        new Random(16).nextBytes(base);
+        byte[] row = base;
+        for (int i = 0; i < 128; i++) {
+            row = Checks.join(row, Checks.bytes(i, 255 - i), Checks.part(base, 0, 10));
+            if (i >= 126) {
+                PackHouse x = flagged(0);
+                Checks.load(x, 0, row);
+                Checks.due("written", x.write(1, 0, 4) > 0, true);
+                Checks.due("sequences", x.about(4), i + 1);
+                Checks.due("strayed", x.strayed(0), 0);
+                Checks.due("read", x.read(2, 1, 4, 65536), row.length);
+                Checks.due("sequences done", x.about(15), i + 1);
+            }
+        }
     }
 
     // One literal between two matches: plain and one byte have as many bytes, and plain comes first.
