@@ -44,10 +44,10 @@ public final class GrownTest {
     }
 
     private static byte[] grow(int kind, int m, int n, int seed) {
-        byte[] b = new byte[n + 40];
+        byte[] b = new byte[n + 60];
         int at = 0;
         int x = seed;
-        while (at < n) {
+        for (int turn = 0; at < n; turn++) {
             x = x * 1103515245 + 12345 & 0x7FFFFFFF;
             int v = x >> 7;
             if (kind == 0) {
@@ -62,6 +62,16 @@ public final class GrownTest {
                 }
             } else if (kind == 2) {
                 b[at++] = (byte) ((v >> 4) % m);
+            } else if (kind == 4 && at >= 90) {
+                // Matches of many lengths, two other bytes between them.
+                for (int i = 0; i < 3 + turn % 50; i++) {
+                    b[at] = b[turn % 7 + i];
+                    at++;
+                }
+                b[at++] = (byte) v;
+                b[at++] = (byte) (v >> 8);
+            } else if (kind == 4) {
+                b[at++] = (byte) v;
             } else {
                 for (int i = 0; i < 1 + (v >> 8) % 40; i++) {
                     b[at++] = (byte) (v % m);

@@ -40,6 +40,9 @@ public final class KindTest {
         dueKind("half of spare bytes", Checks.part(spare(90, 3), 0, 6), 0);
         dueKind("spare bytes without a sign", Checks.with(spare(90, 3), 7, 255), 0);
         PackHouse x = new PackHouse();
+        Checks.load(x, 0, Checks.join(spare(80, 0), marks[0]));
+        x.cut(0, 11);
+        Checks.due("bytes that were cut do not count", x.kind(0), 0);
         Checks.due("no row", x.kind(4), -1);
         Checks.due("no row", x.kind(-1), -1);
     }

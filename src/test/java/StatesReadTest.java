@@ -19,6 +19,7 @@ public final class StatesReadTest {
         sequences();
         latest();
         sequenceFaults();
+        manySequences();
         tooFar();
         more();
         about();
@@ -76,6 +77,7 @@ public final class StatesReadTest {
         byte[] b = block(0, 1, 3, ABC);
         dueFault("three bytes", Checks.bytes(40, 181, 47), 1, 3);
         dueFault("three other bytes", Checks.bytes(1, 2, 3), 1, 3);
+        dueFault("three bytes behind a frame", Checks.join(frame(b), Checks.bytes(1, 2, 3)), 1, 15);
         dueFault("no frame", Checks.bytes(40, 181, 47, 252), 2, 0);
         dueFault("no frame behind one", Checks.join(frame(b), Checks.bytes(4, 34, 77, 24)), 2, 12);
         dueFault("HEAD has 8, ahead of the cut", Checks.join(MAGIC, Checks.bytes(8)), 3, 4);
@@ -193,6 +195,15 @@ public final class StatesReadTest {
         dueRead("the fourth has none", one(coded(2, 1, 3, description(), short4), none), "aba");
         byte[] no4 = Checks.join(Checks.bytes(1, 0, 1, 0, 1, 0), Checks.bytes(1, 1, 1, 1));
         dueRead("all four have none", one(coded(2, 1, 0, description(), no4), none), "");
+        // By states: weights 2, 1 and the next one 1; codes 1, 00 and 01. The second stream: 0 1 2.
+        byte[] byStates = Checks.bytes(5, 16, 136, 31, 96, 4);
+        dueRead("a description by states", one(coded(2, 0, 3, byStates, Checks.bytes(1 | 16 | 32)), none), "\0\1\2");
+        byte[] most = Checks.bytes(6, 16, 240, 1, 0, 66, 252);
+        dueRead("255 weights", one(coded(2, 0, 0, most, Checks.bytes(1)), none), "");
+        byte[] tooMany = Checks.bytes(6, 16, 240, 1, 0, 98, 252);
+        dueFault("256 weights", one(coded(2, 0, 0, tooMany, Checks.bytes(1)), none), 12, 12);
+        byte[] ever = Checks.bytes(4, 16, 4, 0, 16);
+        dueFault("weights that take no bits and never end", one(coded(2, 0, 0, ever, Checks.bytes(1)), none), 12, 12);
         byte[] first = packed(0, coded(2, 0, 3, description(), Checks.bytes(11)), none);
         dueRead("CODES as they were", frame(first, block(1, 0, 1, Checks.bytes(97)), packed(1, coded(3, 0, 2, Checks.bytes(6)), none)),
             "abbaba");
@@ -226,10 +237,13 @@ public final class StatesReadTest {
         int at = 12 + 50;
         dueFault("no stream", one(coded(2, 0, 3, description()), none), 14, at);
         dueFault("a stream ends with 0", one(coded(2, 0, 3, description(), Checks.bytes(0)), none), 14, at);
+        dueFault("eight bits and then 0", one(coded(2, 0, 8, description(), Checks.bytes(85, 0)), none), 14, at);
         dueFault("a bit too few", one(coded(2, 0, 3, description(), Checks.bytes(6)), none), 14, at);
         dueFault("a bit too many", one(coded(2, 0, 3, description(), Checks.bytes(16)), none), 14, at);
         byte[] five = Checks.bytes(1, 0, 1, 0, 1);
         dueFault("no three numbers", one(coded(2, 1, 4, description(), five), none), 14, at);
+        byte[] six = Checks.bytes(1, 0, 1, 0, 1, 0);
+        dueFault("three numbers and nothing behind", one(coded(2, 1, 4, description(), six), none), 14, at);
         byte[] far = Checks.join(Checks.bytes(1, 0, 1, 0, 3, 0), Checks.bytes(2, 3, 2, 3));
         dueFault("numbers that reach beyond", one(coded(2, 1, 4, description(), far), none), 14, at);
         byte[] wrong = Checks.join(Checks.bytes(1, 0, 1, 0, 1, 0), Checks.bytes(2, 3, 1, 0));
@@ -290,6 +304,7 @@ public final class StatesReadTest {
         dueFault("a share of order 10", one(Checks.join(Checks.part(TWICE, 0, 5), Checks.bytes(128, 5, 0, 0))), 16, 14);
         dueFault("no stream", one(Checks.part(TWICE, 0, 9)), 17, at);
         dueFault("a stream that ends with 0", one(Checks.with(TWICE, 9, 0)), 17, at);
+        dueFault("eight bits and then 0", one(Checks.with(Checks.part(TWICE, 0, 9), 7, 8), Checks.bytes(9, 0)), 17, at);
         dueFault("a bit lacks", one(Checks.with(TWICE, 9, 3)), 17, at);
         dueFault("a bit is left", one(Checks.with(TWICE, 9, 12)), 17, at);
         dueFault("first states lack", one(Checks.with(Checks.part(TWICE, 0, 6), 5, 0), Checks.bytes(255, 255)), 17, 15);
@@ -305,6 +320,17 @@ public final class StatesReadTest {
         Checks.due("the sequence was done", x.about(15), 1);
         Checks.due("its bytes had come", x.about(16), 6);
         Checks.dueFault("bits left, ahead of that", x, 4, one(Checks.with(left, 10, 12)), 6, 17, at + 1);
+    }
+
+    // 32512 sequences that take no bits: three bytes each, until no more may be.
+    private static void manySequences() {
+        PackHouse x = new PackHouse();
+        byte[] all = frame(block(1, 0, 10, Checks.bytes(97)), packed(1, Checks.bytes(0, 255, 0, 0, 84, 0, 0, 0, 1)));
+        Checks.dueFault("too many sequences", x, 4, all, 65536, 7, 6 + 4 + 3 + 8);
+        Checks.due("sequences done", x.about(15), 21842);
+        Checks.due("bytes that had come", x.about(16), 65536);
+        byte[] two = frame(block(1, 0, 10, Checks.bytes(97)), packed(1, Checks.bytes(0, 129, 2, 84, 0, 0, 0, 1)));
+        Checks.dueRead("258 sequences", x, 4, two, 65536, Checks.same(97, 10 + 3 * 258));
     }
 
     private static void tooFar() {

@@ -14,6 +14,7 @@ public final class StatesWriteTest {
         manyPlain();
         manySequences();
         oneLiteral();
+        undescribed();
         modes();
         refusals();
         windows();
@@ -277,6 +278,20 @@ public final class StatesWriteTest {
         Checks.due("written", x.write(1, 0, 4) > 0, true);
         Checks.due("LITERALS with k 0", x.about(5), 1);
         Checks.due("sequences", x.about(4), 2);
+    }
+
+    // All bytes once, which no description tells, and a long match.
+    private static void undescribed() {
+        byte[] row = new byte[256];
+        for (int i = 0; i < 256; i++) {
+            row[i] = (byte) (i * 77);
+        }
+        PackHouse x = flagged(0);
+        Checks.load(x, 0, Checks.join(row, Checks.part(row, 10, 200)));
+        // Additional bits 8, 7 and 7, states 17, the END: 40 bits.
+        Checks.due("written", x.write(1, 0, 4), 9 + 2 + 256 + 2 + 5);
+        Checks.due("LITERALS with k 0", x.about(5), 1);
+        Checks.due("strayed", x.strayed(0), 0);
     }
 
     private static void modes() {
