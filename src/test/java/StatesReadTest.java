@@ -229,6 +229,8 @@ public final class StatesReadTest {
         dueFault("a weight too great", one(coded(2, 0, 3, Checks.bytes(128, 0xC0), Checks.bytes(11)), none), 12, 12);
         byte[] all = Checks.bytes(139, 0xCB, 0xA9, 0x87, 0x65, 0x43, 0x21);
         dueFault("lengths up to 12", one(coded(2, 0, 3, all, Checks.bytes(11)), none), 12, 12);
+        byte[] even = Checks.bytes(139, 0x11, 0x23, 0x45, 0x67, 0x89, 0xAB);
+        dueFault("lengths up to 12, and 2048 in all", one(coded(2, 0, 3, even, Checks.bytes(11)), none), 12, 12);
         byte[] most = Checks.bytes(138, 0xBA, 0x98, 0x76, 0x54, 0x32, 0x10);
         dueRead("lengths up to 11", one(coded(2, 0, 3, most, Checks.bytes(15)), none), "\0\0\0");
         dueFault("what lacks is no power of two", one(coded(2, 0, 3, Checks.bytes(129, 0x31), Checks.bytes(11)), none),
