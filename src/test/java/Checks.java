@@ -42,6 +42,13 @@ final class Checks {
         dueRow(what + ": row that stays", x, 2, bytes(1, 2, 3));
     }
 
+    static void dueWritten(String what, PackHouse x, int format, byte[] row, byte[] want) {
+        load(x, 0, row);
+        due(what, x.write(1, 0, format), want.length);
+        dueRow(what, x, 1, want);
+        due(what + ": strayed", x.strayed(0) + x.strayed(1), 0);
+    }
+
     static void dueRead(String what, PackHouse x, int format, byte[] row, int most, byte[] want) {
         load(x, 1, row);
         due(what, x.read(2, 1, format, most), want.length);

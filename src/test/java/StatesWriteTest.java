@@ -22,10 +22,7 @@ public final class StatesWriteTest {
     }
 
     private static void dueWritten(String what, PackHouse x, byte[] row, byte[] want) {
-        Checks.load(x, 0, row);
-        Checks.due(what, x.write(1, 0, 4), want.length);
-        Checks.dueRow(what, x, 1, want);
-        Checks.due(what + ": strayed", x.strayed(0) + x.strayed(1), 0);
+        Checks.dueWritten(what, x, 4, row, want);
     }
 
     private static void dueAbout(String what, PackHouse x, int... counts) {

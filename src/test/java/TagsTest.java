@@ -14,13 +14,6 @@ public final class TagsTest {
         Checks.end("TagsTest");
     }
 
-    private static void dueWritten(String what, PackHouse x, int format, byte[] row, byte[] want) {
-        Checks.load(x, 0, row);
-        Checks.due(what, x.write(1, 0, format), want.length);
-        Checks.dueRow(what, x, 1, want);
-        Checks.due(what + ": strayed", x.strayed(0) + x.strayed(1), 0);
-    }
-
     private static byte[] rising(int n) {
         byte[] b = new byte[n];
         for (int i = 0; i < n; i++) {
@@ -31,14 +24,14 @@ public final class TagsTest {
 
     private static void writtenBlocks() {
         PackHouse x = new PackHouse();
-        dueWritten("no bytes", x, 2, new byte[0], Checks.bytes(0));
-        dueWritten("one", x, 2, Checks.bytes(9), Checks.bytes(1, 0, 9));
-        dueWritten("4 alike are no match", x, 2, Checks.same(9, 4), Checks.bytes(4, 12, 9, 9, 9, 9));
-        dueWritten("5 alike", x, 2, Checks.same(9, 5), Checks.bytes(5, 0, 9, 1, 1));
-        dueWritten("60 literals", x, 2, rising(60), Checks.join(Checks.bytes(60, 59 * 4), rising(60)));
-        dueWritten("61 literals", x, 2, rising(61), Checks.join(Checks.bytes(61, 240, 60), rising(61)));
-        dueWritten("256 literals", x, 2, rising(256), Checks.join(Checks.bytes(128, 2, 240, 255), rising(256)));
-        dueWritten("257 literals", x, 2, rising(257), Checks.join(Checks.bytes(129, 2, 244, 0, 1), rising(257)));
+        Checks.dueWritten("no bytes", x, 2, new byte[0], Checks.bytes(0));
+        Checks.dueWritten("one", x, 2, Checks.bytes(9), Checks.bytes(1, 0, 9));
+        Checks.dueWritten("4 alike are no match", x, 2, Checks.same(9, 4), Checks.bytes(4, 12, 9, 9, 9, 9));
+        Checks.dueWritten("5 alike", x, 2, Checks.same(9, 5), Checks.bytes(5, 0, 9, 1, 1));
+        Checks.dueWritten("60 literals", x, 2, rising(60), Checks.join(Checks.bytes(60, 59 * 4), rising(60)));
+        Checks.dueWritten("61 literals", x, 2, rising(61), Checks.join(Checks.bytes(61, 240, 60), rising(61)));
+        Checks.dueWritten("256 literals", x, 2, rising(256), Checks.join(Checks.bytes(128, 2, 240, 255), rising(256)));
+        Checks.dueWritten("257 literals", x, 2, rising(257), Checks.join(Checks.bytes(129, 2, 244, 0, 1), rising(257)));
     }
 
     // Bytes of one match at distance 1: the length and the copies that are due, k 1 below 12.
@@ -54,7 +47,7 @@ public final class TagsTest {
                 int m = ways[i];
                 want = Checks.join(want, m < 12 ? Checks.bytes(1 | m - 4 << 2, 1) : Checks.bytes(2 | m - 1 << 2, 1, 0));
             }
-            dueWritten("a match of " + ways[0], x, 2, Checks.same(7, n), want);
+            Checks.dueWritten("a match of " + ways[0], x, 2, Checks.same(7, n), want);
         }
         far();
     }
@@ -131,15 +124,15 @@ public final class TagsTest {
 
     private static void writtenStreams() {
         PackHouse x = new PackHouse();
-        dueWritten("no bytes", x, 3, new byte[0], MARK);
+        Checks.dueWritten("no bytes", x, 3, new byte[0], MARK);
         byte[] a = Checks.same(97, 20);
         byte[] packed = chunk(0, sum(a), Checks.bytes(20, 0, 97, 2 | 18 << 2, 1, 0));
         byte[] plain = chunk(1, sum(Checks.text("0123")), Checks.text("0123"));
         x.set(2, 20);
-        dueWritten("two chunks", x, 3, Checks.join(a, Checks.text("0123")), Checks.join(MARK, packed, plain));
+        Checks.dueWritten("two chunks", x, 3, Checks.join(a, Checks.text("0123")), Checks.join(MARK, packed, plain));
         x.set(6, 2);
         byte[] spare = chunk(254, new byte[2]);
-        dueWritten("spare bytes", x, 3, Checks.join(a, Checks.text("0123")),
+        Checks.dueWritten("spare bytes", x, 3, Checks.join(a, Checks.text("0123")),
             Checks.join(MARK, packed, spare, plain, spare));
         x.set(6, 255);
         x.set(2, 1);

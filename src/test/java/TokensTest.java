@@ -17,30 +17,23 @@ public final class TokensTest {
         Checks.end("TokensTest");
     }
 
-    private static void dueWritten(String what, PackHouse x, int format, byte[] row, byte[] want) {
-        Checks.load(x, 0, row);
-        Checks.due(what, x.write(1, 0, format), want.length);
-        Checks.dueRow(what, x, 1, want);
-        Checks.due(what + ": strayed", x.strayed(0) + x.strayed(1), 0);
-    }
-
     private static void writtenBlocks() {
         PackHouse x = new PackHouse();
-        dueWritten("no bytes", x, 0, new byte[0], Checks.bytes(0));
-        dueWritten("12 alike: no match may begin at 1", x, 0, Checks.same(97, 12),
+        Checks.dueWritten("no bytes", x, 0, new byte[0], Checks.bytes(0));
+        Checks.dueWritten("12 alike: no match may begin at 1", x, 0, Checks.same(97, 12),
             Checks.join(Checks.bytes(0xC0), Checks.same(97, 12)));
-        dueWritten("13 alike", x, 0, Checks.same(97, 13),
+        Checks.dueWritten("13 alike", x, 0, Checks.same(97, 13),
             Checks.join(Checks.bytes(0x13, 97, 1, 0, 0x50), Checks.same(97, 5)));
-        dueWritten("15 literals take a byte 0", x, 0, Checks.text("abcdefghijklmno"),
+        Checks.dueWritten("15 literals take a byte 0", x, 0, Checks.text("abcdefghijklmno"),
             Checks.join(Checks.bytes(0xF0, 0), Checks.text("abcdefghijklmno")));
         byte[] many = new byte[270];
         for (int i = 0; i < 270; i++) {
             many[i] = (byte) (i < 256 ? i : 3 * i);
         }
-        dueWritten("270 literals take 255 and 0", x, 0, many, Checks.join(Checks.bytes(0xF0, 255, 0), many));
-        dueWritten("a match of 19", x, 0, Checks.same(5, 25),
+        Checks.dueWritten("270 literals take 255 and 0", x, 0, many, Checks.join(Checks.bytes(0xF0, 255, 0), many));
+        Checks.dueWritten("a match of 19", x, 0, Checks.same(5, 25),
             Checks.join(Checks.bytes(0x1F, 5, 1, 0, 0, 0x50), Checks.same(5, 5)));
-        dueWritten("a match of 274", x, 0, Checks.same(5, 280),
+        Checks.dueWritten("a match of 274", x, 0, Checks.same(5, 280),
             Checks.join(Checks.bytes(0x1F, 5, 1, 0, 255, 0, 0x50), Checks.same(5, 5)));
     }
 
@@ -94,7 +87,7 @@ public final class TokensTest {
             Checks.text("oryoryor!"));
         Checks.dueRead("HISTORY's first byte", x, 0, Checks.bytes(0x10, 33, 12, 0, 0), 9, Checks.text("!the "));
         Checks.dueFault("behind HISTORY's first byte", x, 0, Checks.bytes(0x10, 33, 13, 0, 0), 9, 2, 2);
-        dueWritten("written behind HISTORY", x, 0, Checks.text("the history of it"),
+        Checks.dueWritten("written behind HISTORY", x, 0, Checks.text("the history of it"),
             Checks.join(Checks.bytes(0x07, 11, 0, 0x60), Checks.text(" of it")));
         Checks.due("forget no such", x.forget(2), false);
         Checks.due("forget no such", x.forget(-1), false);
@@ -127,18 +120,18 @@ public final class TokensTest {
         PackHouse x = new PackHouse();
         byte[] end = Checks.number(0, 4);
         byte[] noSum = Checks.number(Checks.narrow(new byte[0], 0), 4);
-        dueWritten("no bytes", x, 1, new byte[0], Checks.join(head(100, 4), end, noSum));
+        Checks.dueWritten("no bytes", x, 1, new byte[0], Checks.join(head(100, 4), end, noSum));
         byte[] row = Checks.join(Checks.same(97, 30), Checks.text("0123456789"));
         byte[] sum = Checks.number(Checks.narrow(row, 0), 4);
         x.set(2, 30);
         byte[] packed = Checks.join(Checks.bytes(0x1F, 97, 1, 0, 5, 0x50), Checks.same(97, 5));
         byte[] plain = Checks.text("0123456789");
-        dueWritten("two blocks", x, 1, row,
+        Checks.dueWritten("two blocks", x, 1, row,
             Checks.join(head(100, 4), block(packed.length, packed), block(1 << 31 | 10, plain), end, sum));
         x.set(3, 64 + 16 + 8 + 1);
         x.set(4, 7);
         x.set(5, -2);
-        dueWritten("all flags but the content's sum", x, 1, row, Checks.join(
+        Checks.dueWritten("all flags but the content's sum", x, 1, row, Checks.join(
             head(89, 7, Checks.number(40, 8), Checks.number(-2, 4)), block(packed.length, summed(packed)),
             block(1 << 31 | 10, summed(plain)), end));
         PackHouse y = new PackHouse();
