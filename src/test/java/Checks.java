@@ -56,6 +56,29 @@ final class Checks {
         dueRow(what, x, 2, want);
     }
 
+    // All that can be asked without changing anything: rows, SETTINGS, what about() and strayed() tell.
+    static long[] state(PackHouse x) {
+        long[] v = new long[41];
+        int k = 0;
+        for (int r = 0; r < 4; r++) {
+            v[k++] = x.size(r);
+            v[k++] = x.wide(r, 0, x.size(r), 0);
+        }
+        for (int what = 0; what < 10; what++) {
+            v[k++] = x.get(what);
+        }
+        for (int what = 0; what < 21; what++) {
+            v[k++] = x.about(what);
+        }
+        v[k++] = x.strayed(0);
+        v[k++] = x.strayed(1);
+        return v;
+    }
+
+    static void dueState(String what, PackHouse x, long[] want) {
+        due(what + ": all is as it was", java.util.Arrays.equals(state(x), want), true);
+    }
+
     static void end(String name) {
         System.out.println(name + ": " + asked + " answers, " + wrong + " wrong");
         if (wrong != 0 || asked == 0) {

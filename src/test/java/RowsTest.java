@@ -9,6 +9,10 @@ public final class RowsTest {
         join();
         reading();
         differ();
+        eachRow();
+        parts();
+        full();
+        overItself();
         Checks.end("RowsTest");
     }
 
@@ -143,5 +147,118 @@ public final class RowsTest {
         Checks.due("differ from itself", x.differ(0, 0), -1);
         Checks.due("differ of no row", x.differ(0, 4), -2);
         Checks.due("differ of no row", x.differ(-1, 0), -2);
+    }
+
+    // Rows 0 .. 3 are there, and none takes what another one is given.
+    private static void eachRow() {
+        PackHouse x = new PackHouse();
+        for (int r = 0; r < 4; r++) {
+            Checks.due("give", x.give(r, 1 + r, 0x1112131415161718L + ((long) r << 56)), true);
+        }
+        for (int r = 0; r < 4; r++) {
+            Checks.dueRow("row " + r, x, r, Checks.part(Checks.bytes(17 + r, 18, 19, 20), 0, r + 1));
+            Checks.due("feed", x.feed(r, r, 0, 0, r), true);
+            Checks.due("size", x.size(r), 17 + r);
+            Checks.due("last", x.byteAt(r, 16 + r), r);
+            Checks.due("behind the last", x.byteAt(r, 17 + r), -1);
+            Checks.due("again", x.again(r, 1, r), true);
+            Checks.due("size", x.size(r), 17 + 2 * r);
+            Checks.due("cut to one less", x.cut(r, 16 + 2 * r), true);
+            Checks.due("cut to none", x.cut(r, 0), true);
+            Checks.due("first of none", x.byteAt(r, 0), -1);
+        }
+        for (int n = 1; n <= 8; n++) {
+            x.cut(2, 0);
+            Checks.due("give " + n, x.give(2, n, 0x8182838485868788L), true);
+            Checks.dueRow("give " + n, x, 2, Checks.part(Checks.hex("8182838485868788"), 0, n));
+        }
+    }
+
+    private static boolean isPart(int from, int to, int n) {
+        return from >= 0 && from <= to && to <= n;
+    }
+
+    // Each PART there is of rows of 0 to 4 bytes, those one further on each side, and the far ones.
+    private static void parts() {
+        int[] places = {Integer.MIN_VALUE, -1, 0, 1, 2, 3, 4, 5, Integer.MAX_VALUE};
+        for (int n = 0; n <= 4; n++) {
+            byte[] row = Checks.part(Checks.bytes(200, 7, 0, 255), 0, n);
+            for (int from : places) {
+                PackHouse x = new PackHouse();
+                Checks.load(x, 0, row);
+                for (int to : places) {
+                    String what = "part " + from + " .. " + to + " of " + n;
+                    byte[] part = isPart(from, to, n) ? Checks.part(row, from, to) : new byte[0];
+                    x.cut(1, 0);
+                    x.give(1, 1, 0x0900000000000000L);
+                    Checks.due(what + ": join", x.join(1, 0, from, to), true);
+                    Checks.dueRow(what + ": join", x, 1, Checks.join(Checks.bytes(9), part));
+                    Checks.due(what + ": narrow", x.narrow(0, from, to, 7), Checks.narrow(part, 7));
+                    Checks.due(what + ": wide", x.wide(0, from, to, 7), Checks.wide(part, 7));
+                    Checks.due(what + ": poly", x.poly(0, from, to, true), Checks.masked(part));
+                }
+            }
+        }
+    }
+
+    // 65,536 bytes, reached by each of the calls that append.
+    private static void full() {
+        for (int way = 0; way < 5; way++) {
+            PackHouse x = new PackHouse();
+            x.feed(0, 1, 2, 3, 4);
+            x.again(0, 16, 4094);
+            Checks.due("size", x.size(0), 65520);
+            boolean done = way == 0 ? x.feed(0, 5, 6, 7, 8)
+                : way == 1 ? x.give(0, 8, 9L << 56) && x.give(0, 7, 9) && x.give(0, 1, 255L << 56)
+                : way == 2 ? x.again(0, 8, 2) : way == 3 ? x.again(0, 16, 1) : x.join(0, 0, 65504, 65520);
+            Checks.due("up to the limit, way " + way, done, true);
+            Checks.due("size", x.size(0), 65536);
+            Checks.due("the last byte", x.byteAt(0, 65535), way == 0 ? 8 : way == 1 ? 255 : 4);
+            Checks.due("behind the last", x.byteAt(0, 65536), -1);
+            Checks.due("give", x.give(0, 1, 0), false);
+            Checks.due("again no times", x.again(0, 1, 0), true);
+            Checks.due("again no times of all", x.again(0, 65536, 0), true);
+            Checks.due("again of one more", x.again(0, 65537, 0), false);
+            Checks.due("join of no bytes", x.join(0, 0, 65536, 65536), true);
+            Checks.due("join of no part", x.join(0, 0, 65535, 65537), true);
+            Checks.due("join of all to another", x.join(1, 0, 0, 65536), true);
+            Checks.due("alike", x.differ(0, 1), -1);
+            x.cut(1, 65535);
+            Checks.due("differ at the last", x.differ(0, 1), 65535);
+            x.give(1, 1, 0x7700000000000000L);
+            Checks.due("differ in the last", x.differ(1, 0), 65535);
+            Checks.due("cut to one more", x.cut(0, 65537), false);
+            Checks.due("cut to all", x.cut(0, 65536), true);
+            Checks.due("history of all", x.history(0) && x.about(18) == 65536, true);
+            Checks.due("learn all", x.learn(0), 65536);
+            Checks.due("content", x.about(19), 65536);
+        }
+    }
+
+    // A call that makes a row has read all it needs before.
+    private static void overItself() {
+        byte[] row = Checks.text("over and over and over and over again");
+        for (int format = 0; format < 6; format++) {
+            PackHouse x = new PackHouse();
+            Checks.load(x, 0, row);
+            int n = x.write(1, 0, format);
+            Checks.due("as many over itself", x.write(0, 0, format), n);
+            Checks.due("the same bytes", x.differ(0, 1), -1);
+            if (format < 5) {
+                Checks.due("read over itself", x.read(0, 0, format, 65536), row.length);
+                Checks.due("PLACE", x.about(0), n);
+                Checks.dueRow("read over itself", x, 0, row);
+                Checks.due("a fault over itself", x.read(1, 1, format, row.length - 1) < 0, true);
+                Checks.due("stays", x.size(1), n);
+            }
+            if (format == 1 || format == 3 || format == 4) {
+                Checks.due("open over itself", x.open(1, 1, 65536), row.length);
+                Checks.dueRow("open over itself", x, 1, row);
+            }
+        }
+        PackHouse x = new PackHouse();
+        Checks.load(x, 0, Checks.text("abc"));
+        Checks.due("join", x.join(0, 0, 0, 3) && x.join(0, 0, 2, 6), true);
+        Checks.dueRow("join", x, 0, Checks.text("abcabccabc"));
     }
 }

@@ -8,6 +8,7 @@ public final class SumsTest {
         parts();
         polynomial();
         plainly();
+        edges();
         Checks.end("SumsTest");
     }
 
@@ -75,5 +76,30 @@ public final class SumsTest {
             Checks.due("narrow of " + n, x.narrow(1, from, from + n, (int) seed), Checks.narrow(part, (int) seed));
             Checks.due("wide of " + n, x.wide(1, from, from + n, seed), Checks.wide(part, seed));
         }
+    }
+
+    // Each length up to two rounds of the lanes and more, of bytes and seeds with and without the highest bits.
+    private static void edges() {
+        long[] seeds = {0, 1, -1, Long.MIN_VALUE, Long.MAX_VALUE, 0xFFFFFFFFL, 0x80000000L};
+        for (int v : new int[] {0, 127, 128, 255}) {
+            byte[] row = Checks.same(v, 72);
+            PackHouse x = new PackHouse();
+            Checks.load(x, 0, row);
+            for (int n = 0; n <= 72; n++) {
+                byte[] part = Checks.part(row, 0, n);
+                long seed = seeds[n % seeds.length];
+                Checks.due("narrow of " + n + " bytes " + v, x.narrow(0, 72 - n, 72, (int) seed),
+                    Checks.narrow(part, (int) seed));
+                Checks.due("wide of " + n + " bytes " + v, x.wide(0, 72 - n, 72, seed), Checks.wide(part, seed));
+                Checks.due("poly of " + n + " bytes " + v, x.poly(0, 72 - n, 72, true), Checks.masked(part));
+            }
+        }
+        PackHouse x = new PackHouse();
+        byte[] all = Checks.same(201, 65536);
+        Checks.load(x, 3, all);
+        Checks.due("narrow of 65536", x.narrow(3, 0, 65536, -1), Checks.narrow(all, -1));
+        Checks.due("wide of 65536", x.wide(3, 0, 65536, -1), Checks.wide(all, -1));
+        Checks.due("poly of 65536", x.poly(3, 0, 65536, true), Checks.masked(all));
+        Checks.due("of one more: none", x.wide(3, 0, 65537, 0), 0xEF46DB3751D8E999L);
     }
 }
