@@ -26,7 +26,80 @@ public final class MatchesTest {
                 Checks.dueRow("tags, turn " + turn + ", way " + way, x, 1, tags(row, way));
             }
         }
+        edges();
+        lastStarts();
         Checks.end("MatchesTest");
+    }
+
+    // What each WAY finds in a row: literals, length and distance of each match.
+    private static void due(String row, int way, int... steps) {
+        data = Checks.text(row);
+        ByteArrayOutputStream out = new ByteArrayOutputStream();
+        out.write(data.length);
+        int at = 0;
+        for (int i = 0; i < steps.length; i += 3) {
+            literals(out, at, at + steps[i]);
+            copies(out, steps[i + 1], steps[i + 2]);
+            at += steps[i] + steps[i + 1];
+        }
+        literals(out, at, data.length);
+        PackHouse x = new PackHouse();
+        x.set(0, way);
+        Checks.dueWritten(row + ", way " + way, x, 2, Checks.text(row), out.toByteArray());
+    }
+
+    private static void edges() {
+        for (int way = 0; way < 4; way++) {
+            due("abc0abc", way);
+            due("abcd0abcd", way, 5, 4, 5);
+            due("abcd0abc1abcd", way, 9, 4, 9);
+            due("abcdef01abcdef23abcdef", way, 8, 6, 8, 2, 6, 8);
+            due("abcd0bcde1abcde", way, 10, 4, 10);
+            due("aaaa", way);
+            due("aaaaa", way, 1, 4, 1);
+            due("ababab", way, 2, 4, 2);
+            due("ababa", way);
+        }
+        String eight = "abcdefgh01abcdefg23abcdefgh";
+        due(eight, 0, 10, 7, 10, 2, 7, 9);
+        due(eight, 1, 10, 7, 10, 2, 8, 19);
+        due(eight, 2, 10, 7, 10, 2, 8, 19);
+        due(eight, 3, 10, 7, 10, 2, 8, 19);
+        String seven = "abcdefg01abcdef23abcdefg";
+        due(seven, 0, 9, 6, 9, 2, 6, 8);
+        due(seven, 1, 9, 6, 9, 2, 6, 8);
+        due(seven, 2, 9, 6, 9, 2, 7, 17);
+        due(seven, 3, 9, 6, 9, 2, 7, 17);
+        String nine = "abcdefghi0abcdefgh1abcdefgh2abcdefghi";
+        due(nine, 0, 10, 8, 10, 1, 8, 9, 1, 8, 9);
+        due(nine, 1, 10, 8, 10, 1, 8, 9, 1, 8, 9);
+        due(nine, 2, 10, 8, 10, 1, 8, 9, 1, 9, 28);
+        String later = "abcd0bcdef1abcdef";
+        due(later, 0, 11, 4, 11);
+        due(later, 1, 11, 4, 11);
+        due(later, 2, 11, 4, 11);
+        due(later, 3, 12, 5, 7);
+        due("abcd0bcdef1cdefgh2abcdefgh", 3, 11, 4, 5, 5, 6, 9);
+        due("abcd0bcdef1cdefgh2abcdefgh", 2, 11, 4, 5, 3, 4, 18, 0, 4, 9);
+    }
+
+    // In tokens none begins behind n - 12: so none there makes WAY 3 wait.
+    private static void lastStarts() {
+        for (int way = 0; way < 4; way++) {
+            PackHouse x = new PackHouse();
+            x.set(0, way);
+            byte[] row = Checks.text("abcd0bcdefgh1abcdefghWXYZ");
+            Checks.dueWritten("none may begin at p + 1", x, 0, row, Checks.join(Checks.bytes(0xD0),
+                Checks.text("abcd0bcdefgh1"), Checks.bytes(13, 0, 0x80), Checks.text("efghWXYZ")));
+        }
+        PackHouse x = new PackHouse();
+        x.set(0, 3);
+        byte[] row = Checks.text("abcd0bcdefgh1abcdefghWXYZ!");
+        Checks.dueWritten("one may begin there", x, 0, row, Checks.join(Checks.bytes(0xE3),
+            Checks.text("abcd0bcdefgh1a"), Checks.bytes(9, 0, 0x50), Checks.text("WXYZ!")));
+        x.set(0, 2);
+        Checks.dueWritten("way 2 does not wait", x, 0, row, Checks.join(Checks.bytes(0xD0),
+            Checks.text("abcd0bcdefgh1"), Checks.bytes(13, 0, 0x90), Checks.text("efghWXYZ!")));
     }
 
     private static byte[] row(Random random, int n) {

@@ -313,6 +313,7 @@ public final class TagEdgesTest {
         Checks.dueFault("KIND 1 of 4, another sum", x, 3, Checks.join(MARK, chunk(1, new byte[4])), 0, 11, 14);
         Checks.dueRead("KIND 0 of 5", x, 3, Checks.join(MARK, chunk(0, sum(NONE), Checks.bytes(0))), 0, NONE);
         for (int kind : new int[] {0, 1, 128, 254, 255}) {
+            x = new PackHouse();
             for (int told : new int[] {6, 7, 255, 256, 65535, 65536, 65540, 65541, 0xFFFFFF}) {
                 byte[] one = Checks.join(MARK, Checks.bytes(kind), Checks.number(told, 3), new byte[5]);
                 Checks.dueFault("KIND " + kind + " of " + told + ", not all there", x, 3, one, 9, 7, one.length);
