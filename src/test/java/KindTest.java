@@ -4,7 +4,9 @@ public final class KindTest {
 
     public static void main(String[] args) {
         kinds();
+        spares();
         opens();
+        countsBeforeAny();
         wrongWhats();
         strays();
         Checks.end("KindTest");
@@ -45,6 +47,73 @@ public final class KindTest {
         Checks.due("bytes that were cut do not count", x.kind(0), 0);
         Checks.due("no row", x.kind(4), -1);
         Checks.due("no row", x.kind(-1), -1);
+    }
+
+    // SPARE bytes on each boundary, ahead of each mark.
+    private static void spares() {
+        byte[][] marks = {Checks.bytes(4, 34, 77, 24), TAG_MARK, Checks.bytes(40, 181, 47, 253),
+            Checks.bytes(55, 164, 48, 236)};
+        int[] formats = {1, 3, 4, 5};
+        for (int i = 0; i < 4; i++) {
+            byte[] mark = marks[i];
+            for (int first = 78; first < 98; first++) {
+                dueKind("behind " + first, Checks.join(spare(first, 3), mark), first >= 80 && first <= 95 ? formats[i] : 0);
+            }
+            for (int at = 1; at < 4; at++) {
+                byte[] s = spare(80, 3);
+                dueKind("behind no spare bytes", Checks.join(Checks.with(s, at, s[at] + 1), mark), 0);
+            }
+            for (int told = 0; told < 6; told++) {
+                byte[] all = Checks.join(Checks.with(spare(88, 3), 4, told), mark);
+                dueKind("told " + told + " of 3", all, told == 3 ? formats[i] : 0);
+            }
+            for (int n = 0; n < mark.length; n++) {
+                dueKind("a mark of " + n, Checks.part(mark, 0, n), 0);
+                dueKind("a mark of " + n + " behind spare bytes", Checks.join(spare(80, 1), Checks.part(mark, 0, n)), 0);
+                dueKind("another mark", Checks.with(mark, n, mark[n] ^ 64), 0);
+            }
+            // As many as a row can have.
+            byte[] most = Checks.join(spare(95, 65536 - 8 - mark.length), mark);
+            dueKind("at the end of a full row", most, formats[i]);
+            dueKind("told one more", Checks.with(most, 4, most[4] + 1), 0);
+        }
+        byte[] many = {};
+        for (int i = 0; i < 100; i++) {
+            many = Checks.join(many, spare(80 + i % 16, i % 3));
+        }
+        dueKind("a hundred", Checks.join(many, marks[0]), 1);
+        dueKind("a hundred, and no mark", many, 0);
+        for (long told : new long[] {1L << 31, (1L << 32) - 1, (1L << 32) - 8, (1L << 32) - 12}) {
+            byte[] far = Checks.join(Checks.bytes(80, 42, 77, 24), Checks.number(told, 4), marks[0]);
+            dueKind("told " + told, far, 0);
+        }
+    }
+
+    // 0 before any write() or read() in FORMAT 4; those in other FORMATS do not count, nor do refused ones.
+    private static void countsBeforeAny() {
+        PackHouse x = new PackHouse();
+        Checks.load(x, 0, Checks.text("one and one and one and one and one"));
+        for (int format = 0; format < 6; format++) {
+            if (format != 4) {
+                Checks.due("write", x.write(1, 0, format) > 0, true);
+                Checks.due("read", x.read(2, 1, format, 65536), format == 5 ? -50 : 35);
+            }
+        }
+        Checks.due("refused", x.write(1, 4, 4) + x.read(4, 1, 4, 0) + x.open(4, 1, 0), -101);
+        for (int what = 1; what <= 17; what++) {
+            Checks.due("about " + what, x.about(what), 0);
+        }
+        int place = x.about(0);
+        Checks.due("write", x.write(1, 0, 4) > 0 && x.cut(0, 34) && x.write(1, 0, 4) > 0, true);
+        Checks.due("PLACE stays", x.about(0), place);
+        Checks.due("blocks", x.about(1) + x.about(2) + x.about(3), 1);
+        for (int what = 13; what <= 17; what++) {
+            Checks.due("that it is read again is no read(): about " + what, x.about(what), 0);
+        }
+        Checks.due("read", x.read(2, 1, 4, 65536), 34);
+        Checks.due("PLACE", x.about(0), x.size(1));
+        Checks.due("frames", x.about(13), 1);
+        Checks.due("bytes", x.about(16), 34);
     }
 
     private static void opens() {

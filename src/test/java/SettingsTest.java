@@ -4,6 +4,7 @@ public final class SettingsTest {
         edges();
         flags();
         bound();
+        boundsOfMany();
         Checks.end("SettingsTest");
     }
 
@@ -72,5 +73,46 @@ public final class SettingsTest {
         Checks.due("no bytes when single", x.bound(4, 0), 25);
         x.set(2, 1);
         Checks.due("rows of one byte", x.bound(4, 16384), 22 + 3 * 16384 + 16384);
+    }
+
+    private static int rows(int n, int each) {
+        return n / each + (n % each > 0 ? 1 : 0);
+    }
+
+    // Beside each number that a division or a row's end makes special.
+    private static void boundsOfMany() {
+        int[] sizes = {0, 1, 2, 5, 6, 7, 11, 12, 99, 100, 101, 199, 200, 201, 254, 255, 256, 509, 510, 511, 1023, 1024, 1025,
+            2047, 2048, 2049, 16383, 16384};
+        for (int cut : new int[] {1, 2, 100, 1023, 1024, 1025, 16383, 16384, 65535, 65536}) {
+            for (int spare : new int[] {0, 1, 255}) {
+                PackHouse x = new PackHouse();
+                x.set(2, cut);
+                x.set(6, spare);
+                x.set(8, spare == 0 ? 0 : 1);
+                x.set(7, spare == 255 ? 4 : 3);
+                for (int n : sizes) {
+                    int window = spare == 0 ? 1024 : spare == 1 ? 2048 : Math.max(1, n);
+                    int blocks = n == 0 ? 1 : rows(n, Math.min(cut, window));
+                    int r = rows(n, cut);
+                    String what = n + " bytes, CUT " + cut + ", SPARE " + spare + ", FORMAT ";
+                    Checks.due(what + 0, x.bound(0, n), n + n / 255 + 16);
+                    Checks.due(what + 1, x.bound(1, n), 27 + 8 * r + n);
+                    Checks.due(what + 2, x.bound(2, n), 32 + n + n / 6);
+                    Checks.due(what + 3, x.bound(3, n), 10 + n + 8 * r + (spare > 0 ? r * (4 + spare) : 0));
+                    Checks.due(what + 4, x.bound(4, n), 22 + 3 * blocks + n);
+                    Checks.due(what + 5, x.bound(5, n), 700 + n);
+                }
+            }
+        }
+        PackHouse x = new PackHouse();
+        for (int format : new int[] {-1, 6, Integer.MIN_VALUE, Integer.MAX_VALUE}) {
+            Checks.due("no FORMAT " + format, x.bound(format, 0), -1);
+            Checks.due("no FORMAT " + format, x.bound(format, 16384), -1);
+        }
+        for (int format = 0; format < 6; format++) {
+            for (int n : new int[] {-1, 16385, 65536, Integer.MIN_VALUE, Integer.MAX_VALUE}) {
+                Checks.due("FORMAT " + format + " of " + n, x.bound(format, n), -1);
+            }
+        }
     }
 }
