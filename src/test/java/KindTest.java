@@ -8,6 +8,7 @@ public final class KindTest {
         opens();
         countsBeforeAny();
         wrongWhats();
+        forgets();
         strays();
         Checks.end("KindTest");
     }
@@ -151,6 +152,26 @@ public final class KindTest {
         for (int what : new int[] {-1, 2, Integer.MIN_VALUE, Integer.MAX_VALUE}) {
             Checks.due("strayed " + what, x.strayed(what), -1);
             Checks.due("forget " + what, x.forget(what), false);
+        }
+    }
+
+    // HISTORY and DICTIONARY are forgotten one by one; what is not there is forgotten, too.
+    private static void forgets() {
+        byte[] byHistory = Checks.bytes(0x00, 3, 0, 0);
+        byte[] byDictionary = Checks.bytes(40, 181, 47, 253, 0, 80, 8 * 7 + 5, 0, 0, 0, 1, 84, 0, 2, 0, 6);
+        for (int what = 0; what < 2; what++) {
+            PackHouse x = new PackHouse();
+            Checks.load(x, 0, Checks.text("abc"));
+            Checks.due("forget what is not there", x.forget(0) && x.forget(1), true);
+            Checks.due("history", x.history(0), true);
+            Checks.due("learn", x.learn(0), 3);
+            Checks.due("forget", x.forget(what), true);
+            Checks.due("HISTORY", x.about(18), what == 0 ? 0 : 3);
+            Checks.due("content", x.about(19), what == 0 ? 3 : 0);
+            Checks.load(x, 1, byHistory);
+            Checks.due("read behind HISTORY", x.read(2, 1, 0, 9), what == 0 ? -2 : 4);
+            Checks.load(x, 1, byDictionary);
+            Checks.due("read with the DICTIONARY", x.read(2, 1, 4, 9), what == 0 ? 3 : -18);
         }
     }
 

@@ -246,7 +246,10 @@ public final class TagEdgesTest {
         for (int n = 0; n < block.length; n++) {
             // Behind each element the block may end, but has too few bytes.
             boolean between = n == 2 || n == 2 + 63 || n == 67 || n == 70;
-            Checks.dueFault("cut at " + n, new PackHouse(), 2, Checks.part(block, 0, n), 200, between ? 6 : 1, n);
+            byte[] cut = Checks.part(block, 0, n);
+            Checks.dueFault("cut at " + n, new PackHouse(), 2, cut, 200, between ? 6 : 1, n);
+            Checks.dueFault("cut at " + n + " in a chunk", new PackHouse(), 3, Checks.join(MARK, chunk(0, sum(ABC), cut),
+                plain(ABC)), 200, between ? 6 : 12, 18 + n);
         }
         byte[] row = new byte[200];
         System.arraycopy(unlike(61), 0, row, 0, 61);

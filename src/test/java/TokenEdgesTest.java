@@ -117,11 +117,16 @@ public final class TokenEdgesTest {
             for (int i = 0; i < 3; i++) {
                 whole = ends[i] == n ? sizes[i] : whole;
             }
-            PackHouse x = new PackHouse();
+            byte[] cut = Checks.part(block, 0, n);
+            byte[] inFrame = frame(64, 64, NONE, packed(64, cut), plain(64, Checks.bytes(9)));
             if (whole >= 0) {
-                Checks.dueRead("cut at " + n, x, 0, Checks.part(block, 0, n), whole, Checks.part(all, 0, whole));
+                Checks.dueRead("cut at " + n, new PackHouse(), 0, cut, whole, Checks.part(all, 0, whole));
+                Checks.dueRead("cut at " + n + " in a frame", new PackHouse(), 1, inFrame, whole + 1,
+                    Checks.join(Checks.part(all, 0, whole), Checks.bytes(9)));
             } else {
-                Checks.dueFault("cut at " + n, x, 0, Checks.part(block, 0, n), 65536, 1, n);
+                Checks.dueFault("cut at " + n, new PackHouse(), 0, cut, 65536, 1, n);
+                // A block of no bytes would be the frame's end.
+                Checks.dueFault("cut at " + n + " in a frame", new PackHouse(), 1, inFrame, 65536, n == 0 ? 4 : 9, 11 + n);
             }
         }
     }
