@@ -46,8 +46,25 @@ public final class KindTest {
         Checks.load(x, 0, Checks.join(spare(80, 0), marks[0]));
         x.cut(0, 11);
         Checks.due("bytes that were cut do not count", x.kind(0), 0);
+        for (byte[] mark : marks) {
+            for (int n = 0; n < mark.length; n++) {
+                Checks.load(x, 1, Checks.join(spare(80, 3), mark));
+                x.cut(1, 11 + n);
+                Checks.due("a mark that was cut at " + n, x.kind(1), 0);
+            }
+        }
         Checks.due("no row", x.kind(4), -1);
         Checks.due("no row", x.kind(-1), -1);
+        // Rows of 256 bytes, and as much of a mark as there is room for.
+        for (int i = 0; i < 4; i++) {
+            for (int n = 0; n <= marks[i].length; n++) {
+                dueKind("at the end", Checks.join(spare(80, 256 - 8 - n), Checks.part(marks[i], 0, n)),
+                    n == marks[i].length ? formats[i] : 0);
+            }
+        }
+        for (int n = 1; n < 8; n++) {
+            dueKind("spare bytes at the end", Checks.join(spare(80, 256 - 8 - n), Checks.part(spare(80, 0), 0, n)), 0);
+        }
     }
 
     // SPARE bytes on each boundary, ahead of each mark.
@@ -132,6 +149,21 @@ public final class KindTest {
             Checks.due("open behind spare bytes", x.open(2, 3, 999), format == 3 ? -8 : row.length);
             Checks.due("PLACE", x.about(0), format == 3 ? 0 : n + 12);
         }
+        for (int format : new int[] {1, 3, 4}) {
+            x.cut(0, 0);
+            int n = x.write(1, 0, format);
+            Checks.due("open of no content, none may be", x.open(2, 1, 0), 0);
+            Checks.due("PLACE", x.about(0), n);
+            Checks.due("open with the greatest most", x.open(2, 1, 65536), 0);
+            x.give(0, 1, 0);
+            x.write(1, 0, format);
+            Checks.due("open of one byte, none may be", x.open(2, 1, 0), format == 4 ? -7 : -3);
+            Checks.due("open of one byte, one may be", x.open(2, 1, 1), 1);
+        }
+        Checks.load(x, 0, row);
+        x.write(1, 0, 4);
+        x.open(2, 1, 65536);
+        Checks.load(x, 3, Checks.row(x, 1));
         Checks.due("no such row", x.open(4, 0, 9), -50);
         Checks.due("no such row", x.open(0, -1, 9), -50);
         Checks.due("most below", x.open(0, 0, -1), -50);

@@ -28,6 +28,8 @@ public final class MatchesTest {
         }
         edges();
         lastStarts();
+        frames();
+        streams();
         Checks.end("MatchesTest");
     }
 
@@ -141,6 +143,55 @@ public final class MatchesTest {
             distance = d;
         }
         return length > 0;
+    }
+
+    // Frames of tokens in rows of CUT bytes, behind HISTORY, ALONE or not.
+    private static void frames() {
+        Random random = new Random(2);
+        for (int turn = 0; turn < 150; turn++) {
+            byte[] past = row(random, turn % 2 == 0 ? random.nextInt(60) : 0);
+            byte[] row = row(random, random.nextInt(300));
+            int cut = 1 + random.nextInt(120);
+            int way = turn % 4;
+            boolean alone = turn % 3 == 0;
+            PackHouse x = new PackHouse();
+            Checks.load(x, 0, past);
+            x.history(0);
+            x.set(0, way);
+            x.set(2, cut);
+            x.set(3, alone ? 96 : 64);
+            byte[] head = Checks.bytes(alone ? 96 : 64, 64);
+            byte[] want = Checks.join(Checks.bytes(4, 34, 77, 24), head, Checks.bytes(Checks.narrow(head, 0) >>> 8));
+            for (int at = 0; at < row.length; at += cut) {
+                byte[] part = Checks.part(row, at, Math.min(row.length, at + cut));
+                byte[] block = tokens(alone ? past : Checks.join(past, Checks.part(row, 0, at)), part, way);
+                boolean fewer = block.length < part.length;
+                want = Checks.join(want, Checks.number(fewer ? block.length : 1L << 31 | part.length, 4), fewer ? block : part);
+            }
+            Checks.dueWritten("frames, turn " + turn, x, 1, row, Checks.join(want, new byte[4]));
+        }
+    }
+
+    // Streams of tags in rows of CUT bytes.
+    private static void streams() {
+        Random random = new Random(3);
+        for (int turn = 0; turn < 150; turn++) {
+            byte[] row = row(random, random.nextInt(300));
+            int cut = 1 + random.nextInt(120);
+            int way = turn % 4;
+            PackHouse x = new PackHouse();
+            x.set(0, way);
+            x.set(2, cut);
+            byte[] want = Checks.bytes(255, 6, 0, 0, 115, 78, 97, 80, 112, 89);
+            for (int at = 0; at < row.length; at += cut) {
+                byte[] part = Checks.part(row, at, Math.min(row.length, at + cut));
+                byte[] block = tags(part, way);
+                boolean fewer = block.length < part.length;
+                want = Checks.join(want, Checks.bytes(fewer ? 0 : 1), Checks.number(4 + (fewer ? block : part).length, 3),
+                    Checks.number(Checks.masked(part), 4), fewer ? block : part);
+            }
+            Checks.dueWritten("streams, turn " + turn, x, 3, row, want);
+        }
     }
 
     private static void rest(ByteArrayOutputStream out, int v) {

@@ -27,6 +27,7 @@ public final class ReadStatesEdgesTest {
         numbersOfSequences();
         symbolsAlone();
         shares();
+        knownShares();
         streamsOfSequences();
         literalLengths();
         matchLengths();
@@ -638,6 +639,37 @@ public final class ReadStatesEdgesTest {
                     9 + place);
             }
             dueFault("the row cut at " + n, Checks.part(one(block), 0, 9 + n), 1, 9 + n);
+            // The same at the end of rows of 256 and 65,536 bytes.
+            for (int limit : new int[] {256, 65536}) {
+                int pad = limit - 8 - 9 - n;
+                if (n <= shareEnd + 2) {
+                    dueFault("a block at the end of " + limit, Checks.join(spare(80, pad, pad), one(cut)), fault,
+                        limit - n + place);
+                }
+                dueFault("a frame at the end of " + limit, Checks.join(spare(80, pad, pad), Checks.part(one(block), 0, 9 + n)),
+                    1, limit);
+            }
+        }
+        byte[] head = Checks.join(MAGIC, Checks.bytes(192 + 3 + 4, 0), new byte[12], plain(true, ABC), new byte[4]);
+        for (int n = 0; n < head.length; n++) {
+            for (int limit : new int[] {256, 65536}) {
+                int pad = limit - 8 - n;
+                byte[] row = Checks.join(spare(80, pad, pad), Checks.part(head, 0, n));
+                if (n == 0) {
+                    dueRead("nothing behind spare bytes", row, NONE);
+                } else {
+                    dueFault(n + " bytes at the end of " + limit, row, 1, limit);
+                }
+            }
+        }
+        for (int k = 2; k < 4; k++) {
+            for (int l = 0; l < 4; l++) {
+                for (int n = 1; n < (l < 2 ? 3 : l + 2); n++) {
+                    int pad = 256 - 8 - 9 - n;
+                    byte[] cut = Checks.part(Checks.join(Checks.bytes(k | l << 2), new byte[4]), 0, n);
+                    dueFault("a head of LITERALS at the end", Checks.join(spare(80, pad, pad), one(cut)), 10, 256);
+                }
+            }
         }
     }
 
@@ -832,6 +864,36 @@ public final class ReadStatesEdgesTest {
         byte[] block = packed(true, States.plain(1, Checks.same(97, Math.max(1, lits))), all.number(),
             Checks.bytes(2 << 6 - 2 * t), table.told(), all.stream(tables));
         dueRead("points -1 in table " + t, frame(same(false, 97, 20), block), Checks.same(97, n));
+    }
+
+    // Each place of each KNOWN share as a first state: its symbol tells how many bits follow, and what comes of it.
+    private static void knownShares() {
+        for (int t = 0; t < 3; t++) {
+            for (int p = 0; p < 1 << States.ORDERS[t]; p++) {
+                int symbol = KNOWN[t].symbolAt[p];
+                int[] s = {1, 0, 0};
+                s[t] = symbol;
+                int[] states = {KNOWN[0].lowest(s[0]), KNOWN[1].lowest(s[1]), KNOWN[2].lowest(s[2])};
+                states[t] = p;
+                int n = States.literalBase(s[0]);
+                int length = States.matchBase(s[2]);
+                int bits = States.literalBits(s[0]) + s[1] + States.matchBits(s[2]);
+                long distance = symbol == 0 || t != 1 ? 1 : symbol == 1 ? 4 : (1L << symbol) - 3;
+                for (int more = -1; more <= 1; more++) {
+                    if (bits + more < 0) {
+                        continue;
+                    }
+                    byte[] stream = new States.Bits().add(0, bits + more).add(states[2], 6).add(states[1], 5)
+                        .add(states[0], 6).add(1, 1).bytes();
+                    byte[] lits = Checks.join(Checks.number((long) n << 4 | 13, 3), Checks.bytes(120));
+                    PackHouse x = new PackHouse();
+                    Checks.load(x, 1, frame(same(false, 120, 10), packed(true, lits, Checks.bytes(1, 0), stream)));
+                    int fault = more < 0 ? 17 : distance > 10 + n ? 18 : 10 + n + length > 65536 ? 7 : more > 0 ? 17 : 0;
+                    Checks.due("table " + t + ", place " + p + ", " + more + " bits more", x.read(2, 1, 4, 65536),
+                        fault > 0 ? -fault : 10 + n + length);
+                }
+            }
+        }
     }
 
     // Bits for the first states and within each sequence, none left.

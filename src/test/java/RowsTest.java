@@ -144,6 +144,10 @@ public final class RowsTest {
         Checks.due("differ when the other ends", x.differ(1, 0), 2);
         x.give(1, 1, 0x0900000000000000L);
         Checks.due("differ at the last", x.differ(0, 1), 2);
+        Checks.load(x, 2, Checks.bytes(2, 2, 3));
+        Checks.due("differ at the first", x.differ(0, 2), 0);
+        Checks.load(x, 2, Checks.bytes(1, 3, 4));
+        Checks.due("differ at the second, and later on", x.differ(2, 0), 1);
         Checks.due("differ from itself", x.differ(0, 0), -1);
         Checks.due("differ of no row", x.differ(0, 4), -2);
         Checks.due("differ of no row", x.differ(-1, 0), -2);

@@ -20,6 +20,7 @@ public final class TagEdgesTest {
         many();
         sums();
         cutStreams();
+        cutAtTheLimit();
         lengthsWritten();
         matchesWritten();
         rowsOfCut();
@@ -250,6 +251,8 @@ public final class TagEdgesTest {
             Checks.dueFault("cut at " + n, new PackHouse(), 2, cut, 200, between ? 6 : 1, n);
             Checks.dueFault("cut at " + n + " in a chunk", new PackHouse(), 3, Checks.join(MARK, chunk(0, sum(ABC), cut),
                 plain(ABC)), 200, between ? 6 : 12, 18 + n);
+            Checks.dueFault("cut at " + n + " in a chunk behind another", new PackHouse(), 3, Checks.join(MARK,
+                plain(Checks.same(1, 150)), chunk(0, sum(ABC), cut), plain(ABC)), 400, between ? 6 : 12, 158 + 18 + n);
         }
         byte[] row = new byte[200];
         System.arraycopy(unlike(61), 0, row, 0, 61);
@@ -414,6 +417,35 @@ public final class TagEdgesTest {
         Checks.dueFault("what is cut is not looked at", new PackHouse(), 3, Checks.part(bad, 0, bad.length - 1), 6, 7,
             bad.length - 1);
         Checks.dueFault("what is not is", new PackHouse(), 3, bad, 6, 2, 18);
+    }
+
+    // Rows of 256 and 65,536 bytes: bytes that count for nothing, and as much of chunks as there is room for.
+    private static void cutAtTheLimit() {
+        byte[] all = Checks.join(packed(ABC, Checks.bytes(3, 8), ABC), plain(ABC));
+        for (int n : new int[] {256, 1024, 65536}) {
+            for (int cut = 0; cut <= all.length; cut++) {
+                byte[] row = Checks.join(MARK, chunk(200, new byte[n - 14 - cut]), Checks.part(all, 0, cut));
+                boolean whole = cut == 0 || cut == 13 || cut == all.length;
+                if (whole) {
+                    Checks.dueRead("a full row", new PackHouse(), 3, row, 6,
+                        cut == 0 ? NONE : cut == 13 ? ABC : Checks.text("abcabc"));
+                } else {
+                    Checks.dueFault(cut + " bytes at the end of " + n, new PackHouse(), 3, row, 6, 7, n);
+                }
+            }
+            byte[][] tails = {literal(unlike(61)), short1(4, 1), long2(4, 1), long3(4, 1)};
+            for (byte[] tail : tails) {
+                for (int cut = 1; cut < tail.length; cut++) {
+                    int m = n - 6 - cut;
+                    byte[] row = Checks.join(length(65536), Checks.bytes(244), Checks.number(m - 1, 2), Checks.same(5, m),
+                        Checks.part(tail, 0, cut));
+                    // Of literals their TAG and number come first: then they are too many, if so.
+                    boolean many = m + 61 > 65536 && tail.length > 5 && cut > 1;
+                    Checks.dueFault("an element at the end of " + n, new PackHouse(), 2, row, 65536, many ? 5 : 1,
+                        many ? n - cut : n);
+                }
+            }
+        }
     }
 
     private static void lengthsWritten() {

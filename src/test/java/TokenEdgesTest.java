@@ -24,6 +24,8 @@ public final class TokenEdgesTest {
         tellSize();
         spareBytes();
         cutFrames();
+        cutAtTheLimit();
+        flagsWritten();
         lookedAtAheadOfTheCut();
         historiesOfFrames();
         secondFrames();
@@ -386,19 +388,69 @@ public final class TokenEdgesTest {
         Checks.dueRead("spare bytes alone", x, 1, spare(95, 0, 0), 0, NONE);
     }
 
-    // With each of the 32 FLAGS, cut at each place.
+    // With each of the 32 FLAGS, cut at each place, and whole with another one behind it.
     private static void cutFrames() {
-        byte[] content = Checks.text("abcdeaaaaaa");
         for (int v = 64; v < 128; v++) {
             if (!areFlags(v)) {
                 continue;
             }
-            byte[] second = Checks.join(sequence(Checks.bytes(97), 1, 5), Checks.bytes(0));
+            // Unless ALONE the second block copies the first one.
+            boolean alone = (v & ALONE) != 0;
+            byte[] content = Checks.text(alone ? "abcdeaaaaaa" : "abcdeabcde");
+            byte[] second = Checks.join(alone ? sequence(Checks.bytes(97), 1, 5) : sequence(NONE, 5, 5), Checks.bytes(0));
             byte[] all = frame(v, 80, content, plain(v, Checks.text("abcde")), packed(v, second));
-            Checks.dueRead("FLAGS " + v, new PackHouse(), 1, all, 11, content);
+            Checks.dueRead("FLAGS " + v, new PackHouse(), 1, all, content.length, content);
+            Checks.dueRead("FLAGS " + v + ", thrice", new PackHouse(), 1, Checks.join(all, all, all), 3 * content.length,
+                Checks.join(content, content, content));
             for (int n = 1; n < all.length; n++) {
                 Checks.dueFault("FLAGS " + v + ", cut at " + n, new PackHouse(), 1, Checks.part(all, 0, n), 11, 1, n);
             }
+        }
+    }
+
+    // Rows of 256 and 65,536 bytes: spare bytes, and as much of a frame as there is room for.
+    private static void cutAtTheLimit() {
+        byte[] content = Checks.text("abcdeabcde");
+        byte[] second = Checks.join(sequence(NONE, 5, 5), Checks.bytes(0));
+        byte[] all = frame(93, 64, content, plain(93, Checks.text("abcde")), packed(93, second));
+        for (int n : new int[] {256, 1024, 65536}) {
+            for (int cut = 0; cut <= all.length; cut++) {
+                byte[] row = Checks.join(spare(80, n - 8 - cut, n - 8 - cut), Checks.part(all, 0, cut));
+                if (cut == 0 || cut == all.length) {
+                    Checks.dueRead("a full row", new PackHouse(), 1, row, 10, cut == 0 ? NONE : content);
+                } else {
+                    Checks.dueFault(cut + " bytes at the end of " + n, new PackHouse(), 1, row, 10, 1, n);
+                }
+            }
+            for (int cut = 1; cut < 8; cut++) {
+                byte[] row = Checks.join(spare(80, n - 8 - cut, n - 8 - cut), Checks.part(spare(90, 0, 0), 0, cut));
+                Checks.dueFault(cut + " spare bytes at the end of " + n, new PackHouse(), 1, row, 10, 1, n);
+            }
+            // A block: literals, and what has to come behind them.
+            byte[] tail = Checks.bytes(1, 0);
+            for (int cut = 1; cut <= 2; cut++) {
+                int m = n - 1 - added(n).length - cut;
+                byte[] row = Checks.join(last(Checks.same(7, m)), Checks.part(tail, 0, cut));
+                Checks.dueFault("at the end of a block of " + row.length, new PackHouse(), 0, row, 65536, 1, row.length);
+            }
+        }
+    }
+
+    // Each of the 32 FLAGS, two rows of which the second is said in the first.
+    private static void flagsWritten() {
+        byte[] said = Checks.text("what is said twice is said");
+        for (int v = 64; v < 128; v++) {
+            if (!areFlags(v)) {
+                continue;
+            }
+            PackHouse x = new PackHouse();
+            x.set(2, said.length);
+            x.set(3, v);
+            x.set(5, 0xFEDCBA98);
+            byte[] match = Checks.join(sequence(NONE, said.length, said.length - 5), last(Checks.text(" said")));
+            byte[] row = Checks.join(said, said);
+            Checks.dueWritten("FLAGS " + v, x, 1, row, frame(v, 64, row, plain(v, said),
+                (v & ALONE) != 0 ? plain(v, said) : packed(v, match)));
         }
     }
 
