@@ -15,8 +15,10 @@ public final class DictionaryEdgesTest {
         lackingShares();
         distances();
         staysAsItWas();
+        latestAfterwards();
         eightBytes();
         literals();
+        manySymbols();
         windowIsEnough();
         madeOfAnything();
         Checks.end("DictionaryEdgesTest");
@@ -52,6 +54,12 @@ public final class DictionaryEdgesTest {
             due("another mark", Checks.with(formed(TWO), n, MARK[n] + 1), 10);
         }
         due("the mark alone", MARK, -1);
+        PackHouse x = new PackHouse();
+        for (int n = 3; n >= 0; n--) {
+            Checks.load(x, 0, MARK);
+            x.cut(0, n);
+            Checks.due("the mark, cut to " + n, x.learn(0), n);
+        }
         due("65536 bytes", Checks.same(3, 65536), 65536);
     }
 
@@ -199,6 +207,50 @@ public final class DictionaryEdgesTest {
         x.learn(0);
         Checks.due("forget", x.forget(1) && x.forget(1), true);
         Checks.dueRead("LATEST 1, 4, 8", x, 4, frame, 9, Checks.text("AAAA"));
+    }
+
+    // LATEST of the DICTIONARY, each of the three; 1, 4, 8 when it is forgotten or has content alone.
+    private static void latestAfterwards() {
+        byte[] share = share();
+        byte[] ten = Checks.text("0123456789");
+        PackHouse x = new PackHouse();
+        Checks.load(x, 0, formed(TWO, share, share, share, latest(2, 3, 5), SAID));
+        for (int turn = 0; turn < 4; turn++) {
+            int[] due = turn % 2 == 0 ? new int[] {2, 3, 5} : new int[] {1, 4, 8};
+            if (turn % 2 == 0) {
+                Checks.due("learn", x.learn(0), 8);
+            } else if (turn == 1) {
+                x.forget(1);
+            } else {
+                Checks.load(x, 3, SAID);
+                Checks.due("learn", x.learn(3), 8);
+            }
+            for (int v = 1; v <= 3; v++) {
+                int s = v == 1 ? 0 : 1;
+                // Ten literals and a match of three by tables of one symbol each.
+                byte[] block = Checks.join(Checks.bytes(80), ten, Checks.bytes(1, 84, 10, s, 0, v));
+                byte[] frame = Checks.join(Checks.bytes(40, 181, 47, 253, 0, 80), States.blockHead(2, true, block.length), block);
+                byte[] copy = new byte[3];
+                for (int i = 0; i < 3; i++) {
+                    copy[i] = ten[10 - due[v - 1] + i % due[v - 1]];
+                }
+                Checks.dueRead("v " + v + ", turn " + turn, x, 4, frame, 13, Checks.join(ten, copy));
+            }
+        }
+    }
+
+    // Matches of n lengths that have n symbols: order 5 has places for 32.
+    private static void manySymbols() {
+        for (int n : new int[] {1, 2, 31, 32, 33, 34, 40}) {
+            StatesModel m = new StatesModel();
+            m.least = 3;
+            byte[] noise = WrittenStatesEdgesTest.noise(54, 200);
+            byte[] row = noise;
+            for (int i = 0; i < n; i++) {
+                row = Checks.join(row, Checks.bytes(noise[States.matchBase(i)] + 1 + i), Checks.part(noise, 0, States.matchBase(i)));
+            }
+            dueMade(n + " match lengths", m, Checks.join(row, Checks.bytes(0)), true);
+        }
     }
 
     private static void dueMade(String what, StatesModel m, byte[] row, boolean right) {

@@ -92,7 +92,12 @@ public final class ReadStatesEdgesTest {
                     Checks.load(x, 1, Checks.part(all, 0, cut));
                     Checks.due("HEAD " + head + ", cut at " + cut, x.read(2, 1, 4, 65536), -1);
                     Checks.due("PLACE", x.about(0), cut);
+                    // The WINDOW is told by its byte, or by SIZE when all of that is there.
+                    int told = 5 + (single ? (g == 3 ? 4 : g) + size.length : 1);
+                    Checks.due("WINDOW", x.about(17), cut < told ? 0 : single ? n : 1 << 20);
+                    Checks.due("blocks", x.about(14), cut < 5 + (single ? 0 : 1) + (g == 3 ? 4 : g) + size.length + 3 ? 0 : 1);
                 }
+                dueRead("HEAD " + head + ", thrice", Checks.join(all, all, all), Checks.same(120, 3 * n));
             }
         }
     }
@@ -432,6 +437,8 @@ public final class ReadStatesEdgesTest {
             dueFault("numbers that reach beyond", one(States.coded(2, 1, 8, Checks.join(TWO, beyond)), NO_SEQUENCES), 14, at);
             dueFault("a stream with a byte too many", one(States.coded(2, 1, 8, Checks.join(TWO, last)), NO_SEQUENCES), 14,
                 at + 6 + n);
+            dueFault("a number of 257", one(States.coded(2, 1, 8, Checks.join(TWO, Checks.with(right, 2 * n + 1, 1))),
+                NO_SEQUENCES), 14, at);
             byte[] none = Checks.with(right, 2 * n, 0);
             dueFault("a stream without a byte", one(States.coded(2, 1, 8, Checks.join(TWO, none)), NO_SEQUENCES), 14,
                 at + 6 + n);
@@ -535,6 +542,55 @@ public final class ReadStatesEdgesTest {
         }
         sharesOfWeights();
         lastBitsOfWeights();
+        longDescriptions();
+        manyWeights();
+    }
+
+    // As many bytes as the first one can tell: 127 of them, and 126.
+    private static void longDescriptions() {
+        int[] points = new int[12];
+        java.util.Arrays.fill(points, -1);
+        points[0] = 53;
+        States.Share share = new States.Share(6, points);
+        // Weights 1 and 2 take six bits each; ones and twice the twos are 255, so the next weight is 1.
+        boolean[] seen = new boolean[200];
+        for (int k = 150; k <= 170; k++) {
+            int[] lengths = new int[256];
+            for (int i = 0; i < k; i++) {
+                lengths[i] = i < 255 - k ? 7 : 8;
+            }
+            lengths[k] = 8;
+            int[] weights = States.weights(lengths);
+            byte[] told = States.byShare(weights, k, share);
+            byte[] row = Checks.bytes(k, 0, 99, k - 1);
+            byte[] all = Checks.join(Checks.bytes(told.length), told, States.stream(row, lengths));
+            seen[told.length] = true;
+            if (told.length < 128) {
+                dueRead(told.length + " bytes", one(States.coded(2, 0, 4, all), NO_SEQUENCES), row);
+            } else {
+                // 128 says that one weight follows.
+                dueFault("128 bytes", one(States.coded(2, 0, 4, all), NO_SEQUENCES), 12, 12);
+            }
+        }
+        Checks.due("126, 127 and 128 were seen", seen[126] && seen[127] && seen[128], true);
+    }
+
+    // 127 weights 1 among 255, and among 256, which are too many.
+    private static void manyWeights() {
+        States.Share share = new States.Share(5, new int[] {16, 16});
+        for (int k = 253; k <= 257; k++) {
+            int[] weights = new int[k];
+            for (int i = 0; i < 127; i++) {
+                weights[2 * i] = 1;
+            }
+            byte[] told = States.byShare(weights, k, share);
+            byte[] all = one(States.coded(2, 0, 0, Checks.join(Checks.bytes(told.length), told, Checks.bytes(1))), NO_SEQUENCES);
+            if (k <= 255) {
+                dueRead(k + " weights", all, NONE);
+            } else {
+                dueFault(k + " weights", all, 12, 12);
+            }
+        }
     }
 
     private static byte[] ofNone(byte[]... told) {
@@ -696,6 +752,10 @@ public final class ReadStatesEdgesTest {
         Checks.dueRead("the DICTIONARY's TABLES", x, 4, Checks.join(frame(block), frame(block)), 9, Checks.same(5, 8));
         x.forget(1);
         Checks.dueFault("no TABLES any more", x, 4, frame(block), 9, 16, 12);
+        for (int t = 0; t < 3; t++) {
+            byte[] mode3 = packed(true, States.plain(0, Checks.bytes(5)), Checks.bytes(1, 3 << 6 - 2 * t), Checks.same(255, 9));
+            Checks.dueFault("no TABLE " + t + " any more", x, 4, frame(mode3), 9, 16, 12);
+        }
         Checks.dueFault("no CODES any more", x, 4, frame(again), 9, 13, 9);
     }
 
@@ -933,6 +993,14 @@ public final class ReadStatesEdgesTest {
         dueFault("no byte", frame(ahead, packed(true, head)), 17, at);
         dueFault("a byte 0", frame(ahead, packed(true, head, right, Checks.bytes(0))), 17, at);
         dueFault("END alone", frame(ahead, packed(true, head, Checks.bytes(1))), 17, at);
+        // Tables of one symbol that take no bits at all.
+        byte[] alone = Checks.join(lits, Checks.bytes(1, 84, 3, 0, 0));
+        dueRead("END alone, and no bits to be read", frame(ahead, packed(true, alone, Checks.bytes(1))),
+            Checks.join(Checks.same(97, 40), Checks.text("abccccdef")));
+        dueFault("no byte", frame(ahead, packed(true, alone)), 17, at + 3);
+        dueFault("a byte 0", frame(ahead, packed(true, alone, Checks.bytes(0))), 17, at + 3);
+        dueFault("END and a byte 0", frame(ahead, packed(true, alone, Checks.bytes(1, 0))), 17, at + 3);
+        dueFault("a bit is left", frame(ahead, packed(true, alone, Checks.bytes(2))), 17, at + 3);
         for (int bits = 15; bits <= 18; bits++) {
             // 6 + 5 + 6 bits are the first states: at place 0 of each is a symbol 0, which takes none.
             byte[] few = new States.Bits().add(0, bits).add(1, 1).bytes();
@@ -1027,6 +1095,29 @@ public final class ReadStatesEdgesTest {
         }
         latest();
         windowsOfDistances();
+        secondFrames();
+    }
+
+    // In a second frame a distance reaches the frame's own content and the DICTIONARY's, not what was before.
+    private static void secondFrames() {
+        byte[] first = frame(plain(true, Checks.text("0123456789")));
+        for (int said = 0; said <= 2; said += 2) {
+            for (int d = 2; d <= 8; d++) {
+                PackHouse x = new PackHouse();
+                Checks.load(x, 3, Checks.part(Checks.text("yz"), 0, said));
+                x.learn(3);
+                States.Sequences one = new States.Sequences().add(3, d + 3, 3);
+                byte[] block = packed(true, States.plain(0, ABC), Checks.bytes(1, 0), one.stream(KNOWN));
+                Checks.load(x, 1, Checks.join(first, frame(block)));
+                boolean far = d > 3 + said;
+                Checks.due(d + " back behind " + said, x.read(2, 1, 4, 65536), far ? -18 : 16);
+                if (!far) {
+                    String all = "yz".substring(0, said) + "abc";
+                    String copy = (all + all.substring(all.length() - d)).substring(all.length(), all.length() + Math.min(d, 3));
+                    Checks.dueRow("what is copied", x, 2, Checks.text("0123456789abc" + (copy + copy).substring(0, 3)));
+                }
+            }
+        }
     }
 
     // LATEST 1, 4, 8 at first: v 1, 2, 3 behind a literal and behind none, in as many bytes as they reach, and one less.
@@ -1090,6 +1181,16 @@ public final class ReadStatesEdgesTest {
             } else {
                 dueFault(n + " literals and three", all, 20, 9 + 3 + 2);
                 dueFault("ahead of fewer that may be", all, 9, 20, 9 + 3 + 2);
+            }
+        }
+        // Two sequences that have 2 and 1 .. 3 literals of 4.
+        for (int n = 1; n <= 3; n++) {
+            States.Sequences two = new States.Sequences().add(2, 1, 3).add(n, 1, 3);
+            byte[] all = one(States.plain(0, Checks.text("abcd")), Checks.bytes(2, 0), two.stream(KNOWN));
+            if (n < 3) {
+                dueRead("2 and " + n + " literals of 4", all, Checks.text(n == 1 ? "abbbbccccd" : "abbbbcdddd"));
+            } else {
+                dueFault("2 and 3 literals of 4", all, 19, 9 + 5 + 2);
             }
         }
         States.Sequences one = new States.Sequences().add(1, 1, 3);

@@ -291,7 +291,10 @@ final class States {
         for (int i = 0; i < k; i++) {
             counts[weights[i]]++;
         }
-        Share share = new Share(order, byCounts(counts, order));
+        return byShare(weights, k, new Share(order, byCounts(counts, order)));
+    }
+
+    static byte[] byShare(int[] weights, int k, Share share) {
         Bits out = new Bits();
         int[] states = {share.lowest(weights[k - 1]), share.lowest(weights[k - 2])};
         for (int i = k - 3; i >= 0; i--) {
@@ -302,7 +305,7 @@ final class States {
         }
         // v_(k - 1), v_(k - 3), .. are the first's, the others the second's.
         int first = (k - 1) % 2 == 0 ? 0 : 1;
-        out.add(states[1 - first], order).add(states[first], order).add(1, 1);
+        out.add(states[1 - first], share.order).add(states[first], share.order).add(1, 1);
         return Checks.join(share.told(), out.bytes());
     }
 

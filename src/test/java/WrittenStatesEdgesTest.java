@@ -18,7 +18,9 @@ public final class WrittenStatesEdgesTest {
         codedOrNot();
         oneStreamOrFour();
         longCodes();
+        halvedCounts();
         descriptions();
+        weightsAllTheSame();
         literalLengths();
         matchLengths();
         distances();
@@ -28,6 +30,7 @@ public final class WrittenStatesEdgesTest {
         numbersOfSequences();
         modes();
         orders();
+        greatestOrders();
         keptCodes();
         Checks.end("WrittenStatesEdgesTest");
     }
@@ -358,6 +361,95 @@ public final class WrittenStatesEdgesTest {
                 longest = Math.max(longest, length);
             }
             Checks.due("the longest code that would be", longest, kinds - 1);
+        }
+    }
+
+    // Literals of any counts, with three bytes of the DICTIONARY's behind each, which no other has: codes of 11 bits and
+    // more, whose counts are halved.
+    private static void halvedCounts() {
+        Random random = new Random(55);
+        int[] times = new int[3];
+        for (int turn = 0; turn < 4000; turn++) {
+            int kinds = turn < 3 ? 12 + turn : 12 + turn % 3;
+            int[] counts = new int[256];
+            double grown = 1;
+            int n = 0;
+            for (int i = 0; i < kinds; i++) {
+                boolean sums = turn < 3 && i > 1;
+                counts[3 * i] = sums ? counts[3 * i - 3] + counts[3 * i - 6] : (int) grown;
+                grown *= turn < 3 ? 1 : 1.55 + random.nextInt(5) / 10.0;
+                n += counts[3 * i];
+            }
+            if (n > 1000 || times[halvings(counts)] > 5) {
+                continue;
+            }
+            times[halvings(counts)]++;
+            byte[] said = noise(80 + turn, 3 * n);
+            byte[] row = {};
+            for (int i = 0; i < 256; i++) {
+                for (int k = 0; k < counts[i]; k++) {
+                    row = Checks.join(row, Checks.bytes(i), Checks.part(said, 3 * n - 3, 3 * n));
+                    n--;
+                }
+            }
+            StatesModel m = flagged(0);
+            m.least = 3;
+            m.content = said;
+            PackHouse x = new PackHouse();
+            m.set(x);
+            Checks.load(x, 3, said);
+            x.learn(3);
+            Checks.load(x, 0, row);
+            due("counts, turn " + turn, m, x, row);
+            int found = 0;
+            for (byte b : m.literalsFound()) {
+                found += counts[b & 255] > 0 ? 1 : 0;
+            }
+            Checks.due("most of them are literals", 100 * found > 95 * said.length / 3, true);
+        }
+        Checks.due("halved and not", times[0] > 2 && times[1] > 5, true);
+    }
+
+    // How often counts are halved until no code is longer than 11.
+    private static int halvings(int[] counts) {
+        int[] half = counts.clone();
+        int times = 0;
+        while (java.util.Arrays.stream(States.lengthsByCounts(half, 99)).max().getAsInt() > 11) {
+            for (int i = 0; i < half.length; i++) {
+                half[i] = (half[i] + 1) / 2;
+            }
+            times++;
+        }
+        return times;
+    }
+
+    // Symbols 0 .. k - 1 of the same length and the symbol k of another: k at most 128 can be described, 192 cannot.
+    private static void weightsAllTheSame() {
+        for (int k : new int[] {64, 96, 112, 120, 124, 126, 127, 128, 192, 224}) {
+            int most = 1;
+            while (most < k) {
+                most *= 2;
+            }
+            // k symbols of count 1, and one that fills up what lacks to a power of two.
+            int fill = most == k ? k : most - k;
+            byte[] row = new byte[k + fill];
+            int at = 0;
+            for (int i = 0; i < k; i++) {
+                row[at++] = (byte) i;
+                for (int j = i * fill / k; j < (i + 1) * fill / k; j++) {
+                    row[at++] = (byte) k;
+                }
+            }
+            StatesModel m = flagged(0);
+            m.least = 8;
+            byte[] all = Checks.join(row, Checks.part(row, 0, 60));
+            PackHouse x = due("k " + k, m, all);
+            int[] counts = new int[256];
+            for (byte b : row) {
+                counts[b & 255]++;
+            }
+            Checks.due("described", States.description(States.lengthsByCounts(counts, 11)) != null, k <= 128);
+            Checks.due("kind 2", x.about(3), 1);
         }
     }
 
@@ -695,6 +787,79 @@ public final class WrittenStatesEdgesTest {
             Checks.due("order " + order + " was the best", seen[order], true);
         }
         Checks.due("two orders cost as much", seen[15] || seen[16] || seen[17], true);
+    }
+
+    // So many sequences that the greatest orders are the best, given as a block of tokens: else there are too many calls.
+    private static void greatestOrders() {
+        boolean[] seen = new boolean[3];
+        for (int turn = 0; turn < 6; turn++) {
+            Random random = new Random(60 + turn);
+            byte[] noise = noise(70 + turn, 300);
+            byte[] row = new byte[16384];
+            System.arraycopy(noise, 0, row, 0, 300);
+            byte[] tokens = new byte[16384];
+            tokens[0] = (byte) 0xF0;
+            tokens[1] = (byte) 255;
+            tokens[2] = 30;
+            System.arraycopy(noise, 0, tokens, 3, 300);
+            int at = 303;
+            int n = 300;
+            int before = 0;
+            while (n < 16300 && at < 7400) {
+                int lits = before == 0 ? 0 : skew(random, turn % 2 == 0 ? 8 : 14);
+                int length = 4 + skew(random, turn % 3 == 0 ? 12 : 14);
+                int far = 1 << 1 + (random.nextInt(100) < 40 + 10 * turn ? 3 : skew(random, 6));
+                int distance = far + random.nextInt(far);
+                if (before > 0) {
+                    tokens[at++] = (byte) (lits << 4 | length - 4);
+                    for (int i = 0; i < lits; i++) {
+                        row[n] = (byte) random.nextInt();
+                        tokens[at++] = row[n++];
+                    }
+                } else {
+                    tokens[0] = (byte) (0xF0 | length - 4);
+                }
+                tokens[at++] = (byte) distance;
+                tokens[at++] = (byte) (distance >> 8);
+                for (int i = 0; i < length; i++) {
+                    row[n] = row[n - distance];
+                    n++;
+                }
+                before++;
+            }
+            tokens[at++] = 0;
+            PackHouse x = new PackHouse();
+            Checks.load(x, 1, Checks.part(tokens, 0, at));
+            StatesModel m = flagged(0);
+            m.least = 4;
+            m.set(x);
+            Checks.due("read", x.read(0, 1, 0, 65536), n);
+            row = Checks.part(row, 0, n);
+            Checks.dueRow("read", x, 0, row);
+            due("many sequences, turn " + turn, m, x, row);
+            byte[] made = m.made(row);
+            Checks.due("made", x.write(1, 0, 5), made.length);
+            Checks.dueRow("made", x, 1, made);
+            for (int t = 0; t < 3; t++) {
+                int best = 5;
+                for (int order = 6; order <= States.GREATEST[t]; order++) {
+                    best = m.orderCosts[t][order] < m.orderCosts[t][best] ? order : best;
+                }
+                seen[t] |= best == States.GREATEST[t];
+            }
+        }
+        for (int t = 0; t < 3; t++) {
+            Checks.due("the greatest order of table " + t + " was the best", seen[t], true);
+        }
+    }
+
+    // 0 most often, then 1, and so on.
+    private static int skew(Random random, int n) {
+        int v = 0;
+        while (v < n && random.nextInt(100) < 55) {
+            v++;
+        }
+        return v;
     }
 
     // CODES, TABLES and LATEST change by a block of kind 2 alone: between two such ones stands one of kind 0 or 1.
