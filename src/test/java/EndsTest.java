@@ -122,11 +122,11 @@ public final class EndsTest {
             }
             for (int way = 0; way < 4; way++) {
                 PackHouse x = new PackHouse();
-                Checks.load(x, 0, Checks.part(row, 0, 4096));
-                x.cut(0, 0);
-                for (int at = 0; at < row.length; at += 4096) {
-                    Checks.load(x, 1, Checks.part(row, at, at + 4096));
-                    x.join(0, 1, 0, 4096);
+                if (form == 0) {
+                    Checks.load(x, 0, row);
+                } else {
+                    Checks.load(x, 1, States.frameOf(row));
+                    Checks.due("read", x.read(0, 1, 4, 65536), row.length);
                 }
                 x.set(0, way);
                 x.set(1, 3);

@@ -371,6 +371,19 @@ final class States {
         return Checks.number(8L * n + 2 * kind + (last ? 1 : 0), 3);
     }
 
+    // A frame that stands for a row of at least two kinds of bytes, all of them LITERALS by CODES: so rows that are too
+    // long to be given in 512 calls can be read.
+    static byte[] frameOf(byte[] row) {
+        int[] counts = new int[256];
+        for (byte b : row) {
+            counts[b & 255]++;
+        }
+        int[] lengths = lengthsByCounts(counts, 11);
+        byte[] told = Checks.join(description(lengths), fourStreams(row, lengths));
+        byte[] block = Checks.join(coded(2, 3, row.length, told), Checks.bytes(0));
+        return Checks.join(Checks.bytes(40, 181, 47, 253, 0, 80), blockHead(2, true, block.length), block);
+    }
+
     // 0 .. 15, then as the document tells them.
     static int literalBase(int s) {
         int[] first = {16, 18, 20, 22, 24, 28, 32, 40, 48, 64};

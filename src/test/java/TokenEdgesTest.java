@@ -44,12 +44,12 @@ public final class TokenEdgesTest {
         return Checks.join(Checks.same(255, (v - 15) / 255), Checks.bytes((v - 15) % 255));
     }
 
-    private static byte[] sequence(byte[] literals, int distance, int length) {
+    static byte[] sequence(byte[] literals, int distance, int length) {
         return Checks.join(Checks.bytes(Math.min(15, literals.length) << 4 | Math.min(15, length - 4)),
             added(literals.length), literals, Checks.number(distance, 2), added(length - 4));
     }
 
-    private static byte[] last(byte[] literals) {
+    static byte[] last(byte[] literals) {
         return Checks.join(Checks.bytes(Math.min(15, literals.length) << 4), added(literals.length), literals);
     }
 

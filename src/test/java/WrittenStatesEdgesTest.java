@@ -297,14 +297,9 @@ public final class WrittenStatesEdgesTest {
 
     // A row of so many bytes cannot be given in 512 calls: row 3 becomes them by a frame that stands for them.
     private static PackHouse withUnlike(StatesModel m) {
-        byte[] row = unlike();
-        int[] lengths = new int[256];
-        java.util.Arrays.fill(lengths, 0, 4, 2);
-        byte[] told = Checks.join(States.description(lengths), States.fourStreams(row, lengths));
-        byte[] block = Checks.join(States.coded(2, 3, row.length, told), Checks.bytes(0));
         PackHouse x = new PackHouse();
         m.set(x);
-        Checks.load(x, 1, Checks.join(Checks.bytes(40, 181, 47, 253, 0, 80), States.blockHead(2, true, block.length), block));
+        Checks.load(x, 1, States.frameOf(unlike()));
         Checks.due("read", x.read(3, 1, 4, 65536), 16384);
         return x;
     }
@@ -763,14 +758,8 @@ public final class WrittenStatesEdgesTest {
             m.write(row);
             boolean isNew = false;
             for (int t = 0; t < 3 && m.about[3] == 1; t++) {
-                int best = 5;
+                int best = bestOrder(m, t);
                 int many = 0;
-                for (int order = 5; order <= States.GREATEST[t]; order++) {
-                    int cost = m.orderCosts[t][order];
-                    if (cost > 0 && (m.orderCosts[t][best] == 0 || cost < m.orderCosts[t][best])) {
-                        best = order;
-                    }
-                }
                 for (int order = 5; order <= 9; order++) {
                     many += m.orderCosts[t][order] == m.orderCosts[t][best] ? 1 : 0;
                 }
@@ -794,63 +783,54 @@ public final class WrittenStatesEdgesTest {
         boolean[] seen = new boolean[3];
         for (int turn = 0; turn < 6; turn++) {
             Random random = new Random(60 + turn);
-            byte[] noise = noise(70 + turn, 300);
-            byte[] row = new byte[16384];
-            System.arraycopy(noise, 0, row, 0, 300);
-            byte[] tokens = new byte[16384];
-            tokens[0] = (byte) 0xF0;
-            tokens[1] = (byte) 255;
-            tokens[2] = 30;
-            System.arraycopy(noise, 0, tokens, 3, 300);
-            int at = 303;
-            int n = 300;
-            int before = 0;
-            while (n < 16300 && at < 7400) {
-                int lits = before == 0 ? 0 : skew(random, turn % 2 == 0 ? 8 : 14);
+            byte[] row = noise(70 + turn, 300);
+            byte[] literals = row;
+            byte[] tokens = {};
+            while (tokens.length < 7000) {
                 int length = 4 + skew(random, turn % 3 == 0 ? 12 : 14);
                 int far = 1 << 1 + (random.nextInt(100) < 40 + 10 * turn ? 3 : skew(random, 6));
                 int distance = far + random.nextInt(far);
-                if (before > 0) {
-                    tokens[at++] = (byte) (lits << 4 | length - 4);
-                    for (int i = 0; i < lits; i++) {
-                        row[n] = (byte) random.nextInt();
-                        tokens[at++] = row[n++];
-                    }
-                } else {
-                    tokens[0] = (byte) (0xF0 | length - 4);
-                }
-                tokens[at++] = (byte) distance;
-                tokens[at++] = (byte) (distance >> 8);
-                for (int i = 0; i < length; i++) {
-                    row[n] = row[n - distance];
-                    n++;
-                }
-                before++;
+                tokens = Checks.join(tokens, TokenEdgesTest.sequence(literals, distance, length));
+                row = Checks.join(row, copy(row, distance, length));
+                literals = new byte[skew(random, turn % 2 == 0 ? 8 : 14)];
+                random.nextBytes(literals);
+                row = Checks.join(row, literals);
             }
-            tokens[at++] = 0;
+            tokens = Checks.join(tokens, TokenEdgesTest.last(literals));
             PackHouse x = new PackHouse();
-            Checks.load(x, 1, Checks.part(tokens, 0, at));
             StatesModel m = flagged(0);
-            m.least = 4;
             m.set(x);
-            Checks.due("read", x.read(0, 1, 0, 65536), n);
-            row = Checks.part(row, 0, n);
-            Checks.dueRow("read", x, 0, row);
+            Checks.load(x, 1, tokens);
+            Checks.due("read", x.read(0, 1, 0, 65536), row.length);
             due("many sequences, turn " + turn, m, x, row);
             byte[] made = m.made(row);
             Checks.due("made", x.write(1, 0, 5), made.length);
             Checks.dueRow("made", x, 1, made);
             for (int t = 0; t < 3; t++) {
-                int best = 5;
-                for (int order = 6; order <= States.GREATEST[t]; order++) {
-                    best = m.orderCosts[t][order] < m.orderCosts[t][best] ? order : best;
-                }
-                seen[t] |= best == States.GREATEST[t];
+                seen[t] |= bestOrder(m, t) == States.GREATEST[t];
             }
         }
         for (int t = 0; t < 3; t++) {
             Checks.due("the greatest order of table " + t + " was the best", seen[t], true);
         }
+    }
+
+    private static byte[] copy(byte[] row, int distance, int length) {
+        byte[] b = new byte[length];
+        for (int i = 0; i < length; i++) {
+            b[i] = i < distance ? row[row.length - distance + i] : b[i - distance];
+        }
+        return b;
+    }
+
+    // The order of the least cost in mode 2, of the same the least one.
+    private static int bestOrder(StatesModel m, int t) {
+        int best = 0;
+        for (int order = 5; order <= States.GREATEST[t]; order++) {
+            int cost = m.orderCosts[t][order];
+            best = cost > 0 && (best == 0 || cost < m.orderCosts[t][best]) ? order : best;
+        }
+        return best;
     }
 
     // 0 most often, then 1, and so on.
