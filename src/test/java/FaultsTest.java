@@ -15,6 +15,10 @@ public final class FaultsTest {
         streamsOfTags();
         framesOfStates();
         blocksOfStates();
+        firstOfAnElement();
+        firstOfLiterals();
+        firstOfASequence();
+        firstBehindSequences();
         Checks.end("FaultsTest");
     }
 
@@ -185,5 +189,79 @@ public final class FaultsTest {
         due(4, 19, 18, frame(packed(Checks.with(twice, 6, 4))));
         byte[] most = Checks.join(Checks.number(1022 << 4 | 5, 2), Checks.bytes(120, 1, 84, 28, 0, 0), Checks.number(510 | 1 << 9, 2));
         due(4, 20, 17, STATES, Checks.bytes(0, 0), packed(most));
+    }
+
+    // Of several faults the first that comes: tokens and tags.
+    private static void firstOfAnElement() {
+        due(0, 1, 2, 0, Checks.bytes(0xF0, 255));
+        due(0, 3, 1, 0, Checks.bytes(0x20, 1));
+        due(0, 1, 2, 1, Checks.bytes(0x20, 1));
+        due(0, 2, 1, 0, Checks.bytes(0x0F, 0, 0));
+        due(0, 1, 3, 0, Checks.bytes(0x0F, 1, 0));
+        due(1, 7, 7, 0, head(80), Checks.number(65537, 4));
+        due(1, 1, 15, 0, head(80), Checks.bytes(5, 0, 0, 0, 0x10, 1, 0, 0));
+        due(1, 8, 16, 0, head(80), Checks.bytes(5, 0, 0, 0, 0x20, 1, 0, 0, 0), END);
+        due(2, 2, 0, 0, Checks.same(255, 5));
+        due(2, 3, 0, 0, Checks.bytes(9, 1));
+        due(2, 1, 3, Checks.bytes(0, 2, 9));
+        due(3, 8, 0, 0, Checks.bytes(9));
+        due(3, 9, 10, 0, TAGS, Checks.bytes(9));
+        due(3, 7, 13, 0, TAGS, Checks.bytes(0, 3, 0));
+        due(3, 10, 10, 0, TAGS, chunk(0, ABC), Checks.bytes(9));
+    }
+
+    // States: 11, 13, 10, 12, 14 in this order; bytes behind 0 sequences before what is too many.
+    private static void firstOfLiterals() {
+        byte[] wrong = Checks.bytes(128, 0xC0);
+        byte[] more = Checks.number(2 | 3 << 4 | 900 << 14, 3);
+        due(4, 10, 14, 0, frame(packed(more, wrong)));
+        due(4, 12, 12, 0, frame(packed(States.coded(2, 0, 3, wrong))));
+        due(4, 11, 9, 0, frame(packed(Checks.number(3 | 4 | 5 << 4 | 900 << 14, 3), wrong)));
+        due(4, 13, 9, 0, frame(packed(Checks.number(3 | 3 << 4 | 900 << 14, 3), wrong)));
+        due(4, 14, 14, 0, frame(packed(States.coded(2, 0, 3, Checks.bytes(128, 0x10, 0)))));
+        due(4, 10, 13, 0, frame(packed(States.plain(0, ABC))));
+        due(4, 15, 14, 0, frame(packed(States.plain(0, ABC), Checks.bytes(0, 9))));
+        due(4, 7, 9, 0, frame(packed(States.plain(0, ABC), Checks.bytes(0))));
+    }
+
+    // One sequence by tables of one symbol, of a WINDOW of 1024; less is how many bits lack.
+    private static byte[] sequence(int literals, int ofLiterals, int distance, int length, int less) {
+        int l = States.literalSymbol(ofLiterals);
+        int m = States.matchSymbol(length);
+        int d = States.highest(distance + 3);
+        States.Bits bits = new States.Bits();
+        long all = ofLiterals - States.literalBase(l) | (long) (length - States.matchBase(m)) << States.literalBits(l)
+            | (long) (distance + 3 - (1 << d)) << States.literalBits(l) + States.matchBits(m);
+        int n = States.literalBits(l) + States.matchBits(m) + d;
+        // Those that are read last lack, or zeros are below them.
+        bits.add(less < 0 ? all << -less : all >> less, n - less);
+        return Checks.join(STATES, Checks.bytes(0, 0), packed(Checks.number((long) literals << 4 | 5, 2), Checks.bytes(120, 1, 84,
+            l, d, m), bits.add(1, 1).bytes()));
+    }
+
+    private static void firstOfASequence() {
+        int at = 9 + 3 + 5;
+        due(4, 17, at, 1, sequence(2, 3, 100, 2000, 1));
+        due(4, 19, at, 1, sequence(2, 3, 100, 2000, 0));
+        due(4, 18, at, 1, sequence(2, 2, 100, 2000, 0));
+        due(4, 20, at, 1, sequence(2, 2, 1, 2000, 0));
+        due(4, 7, at, 1, sequence(2, 2, 1, 1000, 0));
+        due(4, 19, at, 1, sequence(2, 3, 1, 1000, 0));
+        due(4, 18, at, 1, sequence(2, 2, 13, 1000, 0));
+        // Behind the two literals are ten bytes of the DICTIONARY's.
+        due(4, 7, at, 1, sequence(2, 2, 12, 1000, 0));
+        due(4, 20, at, 1023, sequence(2, 2, 1, 1023, 0));
+        due(4, 7, at, 1023, sequence(2, 2, 1, 1022, 0));
+    }
+
+    // Bits that are left come before LITERALS that are left, of these MOST OF A BLOCK before what may be.
+    private static void firstBehindSequences() {
+        int at = 9 + 3 + 5;
+        due(4, 17, at, 4, sequence(1022, 1, 1, 3, -1));
+        due(4, 20, at, 4, sequence(1022, 1, 1, 3, 0));
+        due(4, 7, at, 4, sequence(1021, 1, 1, 3, 0));
+        due(4, 17, at, 4, sequence(1021, 1, 1, 3, -2));
+        // The sequence itself is too many before bits are left.
+        due(4, 7, at, 3, sequence(1021, 1, 1, 3, -1));
     }
 }
