@@ -19,6 +19,7 @@ public final class WrittenStatesEdgesTest {
         oneStreamOrFour();
         longCodes();
         halvedCounts();
+        halvedAgain();
         descriptions();
         weightsAllTheSame();
         literalLengths();
@@ -403,6 +404,57 @@ public final class WrittenStatesEdgesTest {
             Checks.due("most of them are literals", 100 * found > 95 * said.length / 3, true);
         }
         Checks.due("halved and not", times[0] > 2 && times[1] > 5, true);
+    }
+
+    // Counts that grow by two, of 8,192 literals: halved more than once. Hardly any eight bytes come twice.
+    private static void halvedAgain() {
+        int most = 0;
+        for (int turn = 0; turn < 4; turn++) {
+            Random random = new Random(95 + turn);
+            int[] left = new int[14];
+            for (int i = 0; i < 14; i++) {
+                left[i] = i == 0 ? 1 : 1 << i - 1;
+            }
+            byte[] row = new byte[8192];
+            java.util.Set<String> seen = new java.util.HashSet<>();
+            String last = "";
+            for (int at = 0; at < row.length; at++) {
+                int v = pick(random, left, row.length - at);
+                for (int i = 0; i < 40 && seen.contains(last + (char) v); i++) {
+                    v = pick(random, left, row.length - at);
+                }
+                left[v]--;
+                row[at] = (byte) (3 * v);
+                last += (char) v;
+                if (last.length() == 8) {
+                    seen.add(last);
+                    last = last.substring(1);
+                }
+            }
+            StatesModel m = flagged(0);
+            m.least = 8;
+            PackHouse x = new PackHouse();
+            m.set(x);
+            Checks.load(x, 1, States.frameOf(row));
+            Checks.due("read", x.read(0, 1, 4, 65536), row.length);
+            due("many counts, turn " + turn, m, x, row);
+            int[] found = new int[256];
+            for (byte b : m.literalsFound()) {
+                found[b & 255]++;
+            }
+            most = Math.max(most, halvings(found));
+        }
+        Checks.due("halved more than once", most > 1, true);
+    }
+
+    // One of what is left, all alike.
+    private static int pick(Random random, int[] left, int all) {
+        int n = random.nextInt(all);
+        int v = 0;
+        while (n >= left[v]) {
+            n -= left[v++];
+        }
+        return v;
     }
 
     // How often counts are halved until no code is longer than 11.
