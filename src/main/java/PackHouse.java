@@ -958,8 +958,9 @@ public final class PackHouse {
             finder.begin(settings[WAY], 4, WINDOW);
             finder.lay(data.count);
             int laidAhead = finder.laid;
-            for (int at = 0; at < from.count && !out.burst; at += settings[CUT]) {
-                int n = Math.min(settings[CUT], from.count - at);
+            int step = settings[CUT];
+            for (int at = 0; step > 0 && at < from.count && !out.burst; at += step) {
+                int n = Math.min(step, from.count - at);
                 if ((flags & ALONE) != 0) {
                     finder.unlay(laidAhead);
                     data.count = past.count;
@@ -1309,8 +1310,9 @@ public final class PackHouse {
             Row data = finder.data;
             data.clear();
             finder.begin(settings[WAY], 4, WINDOW);
-            for (int at = 0; at < from.count && !out.burst; at += settings[CUT]) {
-                int n = Math.min(settings[CUT], from.count - at);
+            int step = settings[CUT];
+            for (int at = 0; step > 0 && at < from.count && !out.burst; at += step) {
+                int n = Math.min(step, from.count - at);
                 finder.unlay(0);
                 data.clear();
                 data.addPart(from.bytes, at, n);
