@@ -8,7 +8,10 @@ import java.util.TreeSet;
 import java.util.regex.Matcher;
 import java.util.regex.Pattern;
 
-/** README.md: its examples answer what stands behind them, and it names every call and every test. */
+/**
+ * README.md: its examples answer what stands behind them, and it names every call and every test.
+ * EDGES.md: the tests that it names are there.
+ */
 public final class ReadmeTest {
     private static final Pattern EXAMPLE = Pattern.compile("x\\.(\\w+)\\(([^)]*)\\); +// (true|false|-?\\d+)\\b.*");
     private static final Map<String, Method> FACE = new HashMap<>();
@@ -25,7 +28,9 @@ public final class ReadmeTest {
         for (String call : new TreeSet<>(FACE.keySet())) {
             Checks.due("README.md tells of " + call, text.contains("`" + call + "("), true);
         }
-        names(text, readme.resolveSibling("src/test/java"));
+        Path tests = readme.resolveSibling("src/test/java");
+        names(text, tests);
+        edges(Files.readString(tests.resolveSibling("EDGES.md")), tests);
         Checks.end("ReadmeTest");
     }
 
@@ -56,6 +61,17 @@ public final class ReadmeTest {
                 : types[i] == long.class ? (Object) Long.decode(words[i].replace("L", "")) : (Object) Integer.decode(words[i]);
         }
         return String.valueOf(method.invoke(x, values));
+    }
+
+    private static void edges(String text, Path tests) throws Exception {
+        String test = "";
+        Matcher m = Pattern.compile("`(\\w+Test)?(\\.(\\w+))?`").matcher(text);
+        while (m.find()) {
+            test = m.group(1) == null ? test : m.group(1);
+            String code = Files.readString(tests.resolve(test + ".java"));
+            boolean there = m.group(3) == null || code.contains("static void " + m.group(3) + "(");
+            Checks.due("EDGES.md: " + test + " " + m.group(), there, true);
+        }
     }
 
     private static void names(String text, Path tests) {
